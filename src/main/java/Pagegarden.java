@@ -82,8 +82,6 @@ public final class Pagegarden {
       pages[i] = new Page(lines, words, spare);
     }
     Arrays.fill(prefixRights, NONE);
-    web.clear();
-    web.settle();
   }
 
   // ---- the draft
@@ -289,7 +287,7 @@ public final class Pagegarden {
     if (!mayPlant(name)) {
       return refuse();
     }
-    pages[slot].begin(name, draft.toString(), user);
+    begin(slot, name, draft.toString());
     draft.setLength(0);
     settle();
     return slot;
@@ -300,7 +298,10 @@ public final class Pagegarden {
     if (!mayChange(found)) {
       return refuse();
     }
-    return changeByDraft(page, found, draft.toString());
+    change(page, draft.toString());
+    draft.setLength(0);
+    settle();
+    return found.newest;
   }
 
   public int writeOver(int page, int version) {
@@ -311,20 +312,23 @@ public final class Pagegarden {
         || out.length() > MOST_SIGNS) {
       return refuse();
     }
-    return changeByDraft(page, found, out.toString());
+    change(page, out.toString());
+    draft.setLength(0);
+    settle();
+    return found.newest;
   }
 
   public int writeSection(int page, int section) {
     Page found = there(page);
     checkSection(found, section);
-    if (!mayChange(found)) {
-      return refuse();
-    }
     found.spliceInto(section, draft.toString(), out);
-    if (out.length() > MOST_SIGNS) {
+    if (!mayChange(found) || out.length() > MOST_SIGNS) {
       return refuse();
     }
-    return changeByDraft(page, found, out.toString());
+    change(page, out.toString());
+    draft.setLength(0);
+    settle();
+    return found.newest;
   }
 
   public int rename(int page, int name) {
@@ -340,13 +344,12 @@ public final class Pagegarden {
     if (!mayChange(found) || !mayPlant(name) || !isRenamable(found.name, name)) {
       return refuse();
     }
-    int old = found.name;
     int many = 0;
     for (int i = 0; i < MOST_PAGES; i++) {
-      int naming = pages[i].isThere ? pages[i].tree.manyNaming(old) : 0;
+      int naming = pages[i].isThere ? pages[i].tree.manyNaming(found.name) : 0;
       if (naming > 0) {
-        pages[i].tree.renameInto(old, name, out);
-        become(i, out.toString());
+        pages[i].tree.renameInto(found.name, name, out);
+        change(i, out.toString());
         many += naming;
       }
     }
@@ -374,19 +377,19 @@ public final class Pagegarden {
     checkSection(found, section);
     checkName(name);
     int slot = freeSlot(name);
-    if (!mayChange(found) || !mayPlant(name) || found.isSectionWithoutLines(section)) {
-      return refuse();
-    }
     otherOut.setLength(0);
     otherOut.append('[');
     Names.append(name, otherOut);
     otherOut.append(']');
     found.spliceInto(section, otherOut.toString(), out);
-    if (out.length() > MOST_SIGNS) {
+    if (!mayChange(found)
+        || !mayPlant(name)
+        || found.isSectionWithoutLines(section)
+        || out.length() > MOST_SIGNS) {
       return refuse();
     }
-    pages[slot].begin(name, found.sectionText(section), user);
-    become(page, out.toString());
+    begin(slot, name, found.sectionText(section));
+    change(page, out.toString());
     settle();
     return slot;
   }
@@ -404,11 +407,11 @@ public final class Pagegarden {
     if (!mayChange(found) || !mayChange(second) || out.length() > MOST_SIGNS) {
       return refuse();
     }
-    become(page, out.toString());
+    change(page, out.toString());
     out.setLength(0);
     out.append('@');
     Names.append(found.name, out);
-    become(other, out.toString());
+    change(other, out.toString());
     settle();
     return found.newest;
   }
@@ -435,7 +438,9 @@ public final class Pagegarden {
         || out.length() > MOST_SIGNS) {
       return refuse();
     }
-    return change(page, found, out.toString());
+    change(page, out.toString());
+    settle();
+    return found.newest;
   }
 
   public int restore(int page, int version) {
@@ -444,23 +449,22 @@ public final class Pagegarden {
     if (!mayChange(found)) {
       return refuse();
     }
-    return change(page, found, old);
-  }
-
-  private int changeByDraft(int page, Page found, String fresh) {
-    draft.setLength(0);
-    return change(page, found, fresh);
-  }
-
-  private int change(int page, Page found, String fresh) {
-    become(page, fresh);
+    change(page, old);
     settle();
     return found.newest;
   }
 
-  /** The TEXT of a page becomes another one; the web is not yet settled. */
-  private void become(int page, String fresh) {
-    if (page >= 0 && page < MOST_PAGES && pages[page].become(fresh, user)) {
+  private void begin(int slot, int name, String fresh) {
+    if (slot >= 0 && slot < MOST_PAGES) {
+      pages[slot].begin(name);
+      pages[slot].put(fresh, user);
+    }
+  }
+
+  /** The TEXT of a page becomes another one, if it is one; the web must be settled then. */
+  private void change(int page, String fresh) {
+    if (page >= 0 && page < MOST_PAGES && !fresh.equals(pages[page].whole)) {
+      pages[page].put(fresh, user);
       shelf.dropWithInside(page);
     }
   }
@@ -487,6 +491,12 @@ public final class Pagegarden {
       throw new IndexOutOfBoundsException();
     }
     return pages[page];
+  }
+
+  /** The page with a NAME, null without one. */
+  private Page named(int name) {
+    int owner = web.owner(name);
+    return owner >= 0 && owner < MOST_PAGES ? pages[owner] : null;
   }
 
   private String keptText(Page page, int version) {
@@ -616,16 +626,14 @@ public final class Pagegarden {
 
   public String shown(int page) {
     there(page);
-    Kept kept = shelf.fetch(page);
-    if (kept != null) {
+    if (shelf.fetch(page)) {
       shownKept++;
-      return kept.answer;
+    } else {
+      shownAnew++;
+      viewer.make(page);
+      shelf.keep(page, viewer);
     }
-    shownAnew++;
-    viewer.make(page);
-    String made = viewer.out.toString();
-    shelf.keep(page, made, viewer);
-    return made;
+    return shelf.answerAt(shelf.count - 1);
   }
 
   public int writer(int page, int nth) {
@@ -693,9 +701,9 @@ public final class Pagegarden {
     }
     Names.append(first.name, out);
     int at = from;
-    for (int left = steps; left > 0 && at != NONE; left--) {
-      at = web.nextOnWay(at, left - 1);
-      if (at != NONE) {
+    for (int left = steps - 1; left >= 0; left--) {
+      at = web.nextOnWay(at, left);
+      if (at >= 0 && at < MOST_PAGES) {
         out.append('>');
         Names.append(pages[at].name, out);
       }
@@ -916,15 +924,14 @@ public final class Pagegarden {
   private void writeExport() {
     out.setLength(0);
     for (int i = 0; i < NAMES; i++) {
-      int owner = web.owner(BY_NAMES[i]);
-      if (owner != NONE) {
-        String whole = pages[owner].whole;
+      Page found = named(BY_NAMES[i]);
+      if (found != null) {
         out.append('%');
         Names.append(BY_NAMES[i], out);
         out.append(' ');
-        out.append(Names.manyLines(whole));
+        out.append(Names.manyLines(found.whole));
         out.append('\n');
-        out.append(whole);
+        out.append(found.whole);
         out.append('\n');
       }
     }
@@ -938,7 +945,7 @@ public final class Pagegarden {
         Page moved = pages[from];
         pages[from] = pages[many];
         pages[many] = moved;
-        moved.begin(moved.name, moved.whole, user);
+        begin(many, moved.name, moved.whole);
         many++;
       }
     }
@@ -1013,50 +1020,35 @@ public final class Pagegarden {
   }
 
   public boolean isSound() {
-    return areTreesSound()
-        && areKeptSound()
-        && areVersionsSound()
-        && isWebSound()
-        && areRanksSound()
-        && isExportSound();
-  }
-
-  private boolean areTreesSound() {
+    webAnew.clear();
     for (int i = 0; i < MOST_PAGES; i++) {
       if (pages[i].isThere) {
-        Tree tree = pages[i].tree;
-        tree.writeInto(out);
-        if (!Names.isSame(out, pages[i].whole)
-            || tree.from[0] != 0
-            || tree.to[0] != pages[i].whole.length()) {
+        anew.read(pages[i].whole, lines);
+        webAnew.put(i, pages[i].name, anew);
+        if (!isTreeSound(pages[i]) || !isPastSound(pages[i])) {
           return false;
         }
       }
     }
-    return true;
-  }
-
-  private boolean areKeptSound() {
-    for (int i = 0; i < shelf.count; i++) {
-      Kept kept = shelf.at(i);
-      if (kept == null) {
-        return false;
-      }
-      viewer.make(kept.page);
-      if (!Names.isSame(viewer.out, kept.answer)) {
-        return false;
-      }
-    }
-    return true;
-  }
-
-  private boolean areVersionsSound() {
+    webAnew.settle();
     for (int i = 0; i < MOST_PAGES; i++) {
-      if (pages[i].isThere && !isPastSound(pages[i])) {
+      if (web.here(i) != webAnew.here(i)) {
         return false;
       }
     }
-    return true;
+    for (int i = 0; i < shelf.count; i++) {
+      viewer.make(shelf.pageAt(i));
+      if (!Names.isSame(viewer.out, shelf.answerAt(i))) {
+        return false;
+      }
+    }
+    return areRanksSound() && isExportSound();
+  }
+
+  private boolean isTreeSound(Page page) {
+    page.tree.writeInto(out);
+    boolean hasAll = page.tree.from[0] == 0 && page.tree.to[0] == page.whole.length();
+    return hasAll && Names.isSame(out, page.whole);
   }
 
   private boolean isPastSound(Page page) {
@@ -1069,23 +1061,6 @@ public final class Pagegarden {
     boolean isJoined = weaver.weave(page.whole, old, base, out);
     boolean isJoinedOtherwise = weaver.weave(old, page.whole, base, otherOut);
     return isJoined == isJoinedOtherwise && (!isJoined || Names.isSame(out, otherOut));
-  }
-
-  private boolean isWebSound() {
-    webAnew.clear();
-    for (int i = 0; i < MOST_PAGES; i++) {
-      if (pages[i].isThere) {
-        anew.read(pages[i].whole, lines);
-        webAnew.put(i, pages[i].name, anew);
-      }
-    }
-    webAnew.settle();
-    for (int i = 0; i < MOST_PAGES; i++) {
-      if (web.here(i) != webAnew.here(i)) {
-        return false;
-      }
-    }
-    return true;
   }
 
   private boolean areRanksSound() {
@@ -1103,9 +1078,9 @@ public final class Pagegarden {
     writeExport();
     int at = 0;
     for (int i = 0; i < NAMES && at != NONE; i++) {
-      int owner = web.owner(BY_NAMES[i]);
-      if (owner != NONE) {
-        at = readExported(at, BY_NAMES[i], pages[owner].whole);
+      Page found = named(BY_NAMES[i]);
+      if (found != null) {
+        at = readExported(at, BY_NAMES[i], found.whole);
       }
     }
     return at == out.length();
@@ -1141,9 +1116,14 @@ public final class Pagegarden {
       d = d * 31 + tellAll(what);
     }
     for (int i = 0; i < NAMES; i++) {
-      int owner = web.owner(BY_NAMES[i]);
-      if (owner != NONE) {
-        d = digestPage(d, owner, pages[owner]);
+      int page = web.owner(BY_NAMES[i]);
+      if (page >= 0 && page < MOST_PAGES) {
+        d = digestPage(d, page, pages[page]);
+        viewer.make(page);
+        d = d * 31 + viewer.out.length();
+        for (int at = 0; at < viewer.out.length(); at++) {
+          d = d * 31 + viewer.out.charAt(at);
+        }
       }
     }
     return d * 31 + (isSound() ? 1 : 0);
@@ -1166,11 +1146,6 @@ public final class Pagegarden {
     }
     for (int i = 0; i < found.wordCount && i < MOST_WORDS; i++) {
       d = d * 31 + found.writers[i];
-    }
-    viewer.make(page);
-    d = d * 31 + viewer.out.length();
-    for (int i = 0; i < viewer.out.length(); i++) {
-      d = d * 31 + viewer.out.charAt(i);
     }
     return d;
   }
@@ -1468,7 +1443,7 @@ public final class Pagegarden {
 
   /** The TREE of a text: its NODES in rows, as they come. */
   private static final class Tree {
-    // The PAGE, three SECTIONS, three ITEMS, a LINE and a CELL are open at once, at most.
+    // The PAGE, three SECTIONS, three ITEMS, a LINE, a CELL and what is in it, at most.
     private static final int MOST_OPEN = 10;
 
     final int[] kind = new int[MOST_NODES];
@@ -1494,141 +1469,165 @@ public final class Pagegarden {
       lines.read(given);
       begin(PAGE, 0, 0);
       for (int i = 0; i < lines.count; i++) {
-        readLine(i == 0, lines.begin(i), lines.end(i), lines.begin(i + 1));
+        int from = lines.begin(i);
+        int end = lines.end(i);
+        int line = kindOfLine(i == 0, from, end);
+        int level = line == HEAD || line == ITEM ? manySame(from, end) : 0;
+        beginLine(line, from, level);
+        if (line == ROW) {
+          readRow(from, end);
+        } else if (line != REDIRECT) {
+          readBody(line == QUOTE ? from + 1 : from + level, end);
+        }
+        // An ITEM ends where a LINE comes that is not in it.
+        if (line != ITEM) {
+          end(lines.begin(i + 1));
+        }
       }
       for (int i = 0; i < MOST_OPEN; i++) {
         end(given.length());
       }
+      findNames();
     }
 
-    private void readLine(boolean isFirst, int begin, int end, int next) {
-      int line = kindOfLine(isFirst, begin, end);
-      int level = line == HEAD || line == ITEM ? manySame(begin, end) : 0;
-      endAll(ITEM, line == ITEM ? level : 0, begin);
-      if (line == HEAD) {
-        endAll(SECTION, level, begin);
-        begin(SECTION, begin, level);
-      }
-      int node = begin(line, begin, level);
-      if (line == ROW) {
-        readCells(begin + 1, end);
-      } else if (line == REDIRECT && node != NONE) {
-        mark[node] = end;
-        name[node] = Names.nameAt(whole, begin + 1, end);
-      } else if (line != REDIRECT) {
-        readBody(line == QUOTE ? begin + 1 : begin + level, end);
-      }
-      // An ITEM ends where a LINE comes that is not in it.
-      if (line != ITEM) {
-        end(next);
-      }
-    }
-
-    private int kindOfLine(boolean isFirst, int begin, int end) {
-      if (begin >= end) {
+    private int kindOfLine(boolean isFirst, int from, int end) {
+      char sign = from < end ? whole.charAt(from) : '\n';
+      if (sign == '\n') {
         return EMPTY;
       }
-      switch (whole.charAt(begin)) {
-        case '=':
-          return manySame(begin, end) <= 3 ? HEAD : PLAIN;
-        case '*':
-          return manySame(begin, end) <= 3 ? ITEM : PLAIN;
-        case '>':
-          return QUOTE;
-        case '|':
-          return ROW;
-        case '@':
-          return isFirst && begin + 1 < end && namingEnd(begin + 1, end) == end ? REDIRECT : PLAIN;
-        default:
-          return PLAIN;
+      if (sign == '=' || sign == '*') {
+        boolean isTooMany = manySame(from, end) > 3;
+        return isTooMany ? PLAIN : sign == '=' ? HEAD : ITEM;
       }
+      if (sign == '>') {
+        return QUOTE;
+      }
+      if (sign == '|') {
+        return ROW;
+      }
+      boolean isNaming = from + 1 < end && namingEnd(from + 1, end) == end;
+      return isFirst && sign == '@' && isNaming ? REDIRECT : PLAIN;
     }
 
     /** How often the sign there comes without another one between. */
-    private int manySame(int begin, int end) {
-      int at = begin;
-      while (at < end && whole.charAt(at) == whole.charAt(begin)) {
+    private int manySame(int from, int end) {
+      int at = from;
+      while (at < end && whole.charAt(at) == whole.charAt(from)) {
         at++;
       }
-      return at - begin;
+      return at - from;
     }
 
-    private void readCells(int begin, int end) {
-      int at = begin;
-      for (int i = 0; i <= MOST_SIGNS && at <= end; i++) {
-        int stop = at;
+    private void beginLine(int line, int from, int level) {
+      endAll(ITEM, line == ITEM ? level : 0, from);
+      if (line == HEAD) {
+        endAll(SECTION, level, from);
+        begin(SECTION, from, level);
+      }
+      begin(line, from, level);
+    }
+
+    /** The CELLS of a ROW: one behind each "|". */
+    private void readRow(int from, int end) {
+      int at = from;
+      while (at < end) {
+        int stop = at + 1;
         while (stop < end && whole.charAt(stop) != '|') {
           stop++;
         }
-        begin(CELL, at, 0);
-        readBody(at, stop);
+        begin(CELL, at + 1, 0);
+        readBody(at + 1, stop);
         end(stop);
-        at = stop + 1;
+        at = stop;
       }
     }
 
-    private void readBody(int begin, int end) {
-      int at = begin;
-      int told = begin;
+    private void readBody(int from, int end) {
+      int at = from;
+      int told = from;
       while (at < end) {
         int stop = markEnd(at, end);
         if (stop > at) {
-          leaf(TEXT, told, at);
-          leaf(foundKind, at, stop);
+          addText(told, at);
+          begin(foundKind, at, foundMark);
+          end(stop);
           at = stop;
           told = stop;
         } else {
           at++;
         }
       }
-      leaf(TEXT, told, end);
+      addText(told, end);
     }
 
-    private void leaf(int leafKind, int begin, int end) {
-      if (begin < end) {
-        int node = begin(leafKind, begin, leafKind == TEXT ? 0 : foundMark);
-        if (node != NONE && (leafKind == LINK || leafKind == PART)) {
-          name[node] = Names.nameAt(whole, begin + 1, foundMark);
-        }
+    private void addText(int from, int end) {
+      if (from < end) {
+        begin(TEXT, from, 0);
         end(end);
       }
     }
 
     /** Where that ends which is not TEXT and begins there; NONE if it is TEXT. */
     private int markEnd(int at, int end) {
+      foundKind = kindOfMark(whole.charAt(at));
       foundMark = 0;
-      switch (whole.charAt(at)) {
-        case '`':
-          foundKind = CODE;
-          return behindClosing(at, end, '`', '`');
-        case '[':
-          foundKind = LINK;
-          return namingMarkEnd(at, behindClosing(at, end, '[', ']'));
-        case '{':
-          return braceEnd(at, behindClosing(at, end, '{', '}'));
-        case '(':
-          foundKind = NOTE;
-          return behindClosing(at, end, '(', ')');
-        case '#':
-          foundKind = KIND;
-          return kindEnd(at, end);
-        case '\'':
-          foundKind = BOLD;
-          return at + 1;
-        case '_':
-          foundKind = ITALIC;
-          return at + 1;
-        default:
-          return NONE;
+      if (foundKind == TEXT) {
+        return NONE;
       }
+      if (foundKind == BOLD || foundKind == ITALIC) {
+        return at + 1;
+      }
+      if (foundKind == KIND) {
+        int stop = lettersEnd(at + 1, end);
+        return stop > at + 1 ? stop : NONE;
+      }
+      int closing = closingSign(at, end);
+      if (closing == NONE) {
+        return NONE;
+      }
+      if (foundKind == LINK || foundKind == PART) {
+        foundMark = namingEnd(at + 1, closing);
+        if (foundKind == PART && foundMark == at + 1 && isDigit(at + 1)) {
+          foundKind = PLACE;
+          foundMark = at + 2;
+        }
+        boolean isToldAlone = foundMark == closing || whole.charAt(foundMark) == '|';
+        return foundMark > at + 1 && isToldAlone ? closing + 1 : NONE;
+      }
+      return closing + 1;
     }
 
-    /** Behind the next closing sign; NONE if there is none, or an opening one comes ahead. */
-    private int behindClosing(int at, int end, char opening, char closing) {
+    /** What a sign begins, if what comes behind it is right; of a PLACE it says PART. */
+    private int kindOfMark(char sign) {
+      if (sign == '`') {
+        return CODE;
+      }
+      if (sign == '[') {
+        return LINK;
+      }
+      if (sign == '{') {
+        return PART;
+      }
+      if (sign == '(') {
+        return NOTE;
+      }
+      if (sign == '#') {
+        return KIND;
+      }
+      if (sign == '\'') {
+        return BOLD;
+      }
+      return sign == '_' ? ITALIC : TEXT;
+    }
+
+    /** Where the next closing sign is; NONE if there is none, or an opening one comes ahead. */
+    private int closingSign(int at, int end) {
+      char opening = whole.charAt(at);
+      char closing = opening == '[' ? ']' : opening == '{' ? '}' : opening == '(' ? ')' : opening;
       for (int i = at + 1; i < end; i++) {
         char sign = whole.charAt(i);
         if (sign == closing) {
-          return i + 1;
+          return i;
         }
         if (sign == opening) {
           return NONE;
@@ -1637,82 +1636,77 @@ public final class Pagegarden {
       return NONE;
     }
 
-    /** The end again, if a NAMING text is told first and nothing or "|" comes behind it. */
-    private int namingMarkEnd(int at, int stop) {
-      if (stop == NONE) {
-        return NONE;
-      }
-      int naming = namingEnd(at + 1, stop - 1);
-      foundMark = naming;
-      boolean isNaming = naming > at + 1 && (naming == stop - 1 || whole.charAt(naming) == '|');
-      return isNaming ? stop : NONE;
+    private boolean isDigit(int at) {
+      return whole.charAt(at) >= '0' && whole.charAt(at) <= '2';
     }
 
-    private int braceEnd(int at, int stop) {
-      foundKind = PART;
-      if (stop == NONE || at + 2 >= stop) {
-        return NONE;
+    private int lettersEnd(int from, int end) {
+      int at = from;
+      while (at < end && Names.isLetter(whole.charAt(at))) {
+        at++;
       }
-      char digit = whole.charAt(at + 1);
-      if (digit >= '0' && digit <= '2') {
-        foundKind = PLACE;
-        foundMark = at + 2;
-        return at + 3 == stop || whole.charAt(at + 2) == '|' ? stop : NONE;
-      }
-      return namingMarkEnd(at, stop);
+      return at;
     }
 
-    private int kindEnd(int at, int end) {
-      int stop = at + 1;
-      while (stop < end && Names.isLetter(whole.charAt(stop))) {
-        stop++;
-      }
-      return stop > at + 1 ? stop : NONE;
-    }
-
-    private int namingEnd(int begin, int end) {
-      int at = begin;
+    private int namingEnd(int from, int end) {
+      int at = from;
       while (at < end && (Names.isLetter(whole.charAt(at)) || whole.charAt(at) == '/')) {
         at++;
       }
       return at;
     }
 
-    /** A new NODE in the one that is open, and open from now on; NONE if the rows are full. */
-    private int begin(int newKind, int at, int newMark) {
+    /** A new NODE in the one that is open, and open from now on. */
+    private void begin(int newKind, int at, int newMark) {
       if (count >= MOST_NODES || openCount >= MOST_OPEN) {
-        return NONE;
+        return;
       }
-      int node = count;
-      kind[node] = newKind;
-      from[node] = at;
-      to[node] = at;
-      depth[node] = openCount;
-      kids[node] = 0;
-      mark[node] = newMark;
-      name[node] = NONE;
-      if (openCount > 0) {
-        kids[open[openCount - 1]]++;
+      kind[count] = newKind;
+      from[count] = at;
+      to[count] = at;
+      depth[count] = openCount;
+      kids[count] = 0;
+      mark[count] = newMark;
+      name[count] = NONE;
+      int around = lastOpen();
+      if (around != NONE) {
+        kids[around]++;
       }
-      open[openCount] = node;
+      open[openCount] = count;
       openCount++;
       count++;
-      return node;
+    }
+
+    private int lastOpen() {
+      int node = openCount > 0 && openCount <= MOST_OPEN ? open[openCount - 1] : NONE;
+      return node < MOST_NODES ? node : NONE;
     }
 
     private void end(int at) {
-      if (openCount > 0) {
+      int node = lastOpen();
+      if (node != NONE) {
+        to[node] = at;
         openCount--;
-        to[open[openCount]] = at;
       }
     }
 
     /** Ends the open NODES of a KIND with that LEVEL or more. */
     private void endAll(int ending, int level, int at) {
-      for (int i = 0; i < 3 && openCount > 0; i++) {
-        int node = open[openCount - 1];
-        if (kind[node] == ending && mark[node] >= level) {
+      for (int i = 0; i < 3; i++) {
+        int node = lastOpen();
+        if (node != NONE && kind[node] == ending && mark[node] >= level) {
           end(at);
+        }
+      }
+    }
+
+    private void findNames() {
+      for (int i = 0; i < count && i < MOST_NODES; i++) {
+        if (kind[i] == REDIRECT) {
+          mark[i] = lineEnd(i);
+        }
+        if (kind[i] == LINK || kind[i] == PART || kind[i] == REDIRECT) {
+          name[i] = Names.nameAt(whole, from[i] + 1, mark[i]);
         }
       }
     }
@@ -1781,6 +1775,36 @@ public final class Pagegarden {
         }
       }
       Names.copy(whole, told, whole.length(), out);
+    }
+
+    /** The digit of a PLACE. */
+    int digit(int node) {
+      int at = kindAt(node) == PLACE ? from[node] + 1 : whole.length();
+      return at < whole.length() ? whole.charAt(at) - '0' : NONE;
+    }
+
+    /** Where an argument of a PART begins; NONE if it has none of that number. */
+    int argument(int part, int number) {
+      int left = number;
+      int end = kindAt(part) == PART ? to[part] - 1 : 0;
+      for (int i = end > 0 ? mark[part] : 0; i < end; i++) {
+        if (whole.charAt(i) == '|') {
+          if (left == 0) {
+            return i + 1;
+          }
+          left--;
+        }
+      }
+      return NONE;
+    }
+
+    int argumentEnd(int part, int begin) {
+      int end = kindAt(part) == PART ? to[part] - 1 : begin;
+      int at = begin;
+      while (at < end && whole.charAt(at) != '|') {
+        at++;
+      }
+      return at;
     }
 
     /** Where the LINE that begins at a NODE ends, its LINE END not counted. */
@@ -1853,33 +1877,24 @@ public final class Pagegarden {
       this.after = after;
     }
 
-    void begin(int newName, String fresh, int user) {
+    /** A page that has no VERSION yet: its first TEXT must be put. */
+    void begin(int newName) {
       isThere = true;
       name = newName;
-      newest = 0;
+      whole = "";
+      newest = NONE;
+      wordCount = 0;
       remarkCount = 0;
       Arrays.fill(rights, NONE);
       Arrays.fill(seen, NONE);
-      Arrays.fill(writers, user);
-      takeText(fresh, user);
-      after.read(fresh);
-      wordCount = after.count;
     }
 
-    /** Tells whether it is another TEXT, which makes a VERSION. */
-    boolean become(String fresh, int user) {
-      if (fresh.equals(whole)) {
-        return false;
-      }
+    /** The next VERSION. */
+    void put(String fresh, int user) {
       inherit(fresh, user);
       newest++;
-      takeText(fresh, user);
-      return true;
-    }
-
-    private void takeText(String fresh, int user) {
       whole = fresh;
-      versions[newest % MOST_KEPT_VERSIONS] = new Signed(fresh, user);
+      versions[Math.floorMod(newest, MOST_KEPT_VERSIONS)] = new Signed(fresh, user);
       tree.read(fresh, lines);
     }
 
@@ -1911,12 +1926,12 @@ public final class Pagegarden {
     }
 
     String textOf(int version) {
-      Signed kept = version >= 0 ? versions[version % MOST_KEPT_VERSIONS] : null;
+      Signed kept = versions[Math.floorMod(version, MOST_KEPT_VERSIONS)];
       return kept != null ? kept.said : "";
     }
 
     int userOf(int version) {
-      Signed kept = version >= 0 ? versions[version % MOST_KEPT_VERSIONS] : null;
+      Signed kept = versions[Math.floorMod(version, MOST_KEPT_VERSIONS)];
       return kept != null ? kept.user : NONE;
     }
 
@@ -2042,12 +2057,20 @@ public final class Pagegarden {
     private final int[] leads = new int[NAMES];
     // The NAME in a page's REDIRECT: NONE if it is not one, NO_REDIRECT without a REDIRECT.
     private final int[] forwards = new int[MOST_PAGES];
+    // Where a page's REDIRECT LEADS.
+    private final int[] redirects = new int[MOST_PAGES];
+    // The NAMES in a page's LINKS: bit n for NAME n.
     private final long[] linked = new long[MOST_PAGES];
     private final int[] tos = new int[MOST_PAGES];
     private final int[] heres = new int[MOST_PAGES];
     private final int[] distances = new int[MOST_PAGES];
     private final long[] shares = new long[MOST_PAGES];
     private final long[] sharesBefore = new long[MOST_PAGES];
+
+    Web() {
+      clear();
+      settle();
+    }
 
     void clear() {
       count = 0;
@@ -2079,7 +2102,8 @@ public final class Pagegarden {
       }
       Arrays.fill(heres, 0);
       for (int page = 0; page < MOST_PAGES; page++) {
-        tos[page] = isPresent(page) ? ledTo(page) : 0;
+        redirects[page] = lead(forwards[page]);
+        tos[page] = ledTo(page);
         for (int other = 0; other < MOST_PAGES; other++) {
           if ((tos[page] >> other & 1) != 0) {
             heres[other] |= 1 << page;
@@ -2132,13 +2156,14 @@ public final class Pagegarden {
       return isPresent(page) && forwards[page] != NO_REDIRECT;
     }
 
-    /** The NAME in the REDIRECT of a page, NONE without one. */
-    int forward(int page) {
-      return hasRedirect(page) ? forwards[page] : NONE;
+    int redirectOf(int page) {
+      return isPresent(page) ? redirects[page] : NONE;
     }
 
-    int redirectOf(int page) {
-      return lead(forward(page));
+    /** The NAME that one with a REDIRECT leads on to, NONE if there is no such page. */
+    int forward(int name) {
+      int page = owner(name);
+      return page >= 0 && page < MOST_PAGES ? forwards[page] : NONE;
     }
 
     int to(int page) {
@@ -2301,17 +2326,19 @@ public final class Pagegarden {
       notes.setLength(0);
       noteCount = 0;
       partCount = 0;
+      inside = 0;
       Arrays.fill(asked, NOT_ASKED);
       Arrays.fill(path, 0);
-      if (page < 0 || page >= MOST_PAGES) {
-        return;
-      }
-      inside = 1 << page;
-      pageAt[0] = page;
-      Tree tree = pages[page].tree;
+      begin(page, 0, 0);
+      Tree tree = treeAt(0);
       for (int i = 0; i < tree.count && i < MOST_NODES; i++) {
         if (tree.kind[i] >= HEAD && tree.kind[i] <= PLAIN) {
-          showLine(tree, i);
+          showMarks(tree, i);
+          showBody(i);
+          if (style != 0) {
+            out.append("<0>");
+          }
+          out.append('\n');
         }
       }
       for (int i = 0; i < notes.length(); i++) {
@@ -2319,32 +2346,33 @@ public final class Pagegarden {
       }
     }
 
-    private void showLine(Tree tree, int line) {
-      switch (tree.kindAt(line)) {
-        case HEAD:
-          showPath(tree.mark[line]);
-          break;
-        case ITEM:
-          for (int i = 0; i < tree.mark[line]; i++) {
-            out.append('-');
-          }
-          out.append(' ');
-          break;
-        case QUOTE:
-          out.append("> ");
-          break;
-        case REDIRECT:
-          Names.copy(tree.whole, tree.from[line], tree.mark[line], out);
-          break;
-        default:
-          break;
+    /** Comes to a page that stands in so many PARTS, the last of them that NODE. */
+    private void begin(int page, int newLevel, int part) {
+      if (page >= 0 && page < MOST_PAGES && newLevel >= 0 && newLevel <= DEEPEST) {
+        level = newLevel;
+        inside |= 1 << page;
+        pageAt[level] = page;
+        partAt[level] = part;
+        nodeAt[level] = 0;
+        linesAt[level] = 0;
+        cellsAt[level] = 0;
       }
-      style = 0;
-      showBody(line);
-      if (style != 0) {
-        out.append("<0>");
+    }
+
+    private void showMarks(Tree tree, int line) {
+      int kind = tree.kindAt(line);
+      if (kind == HEAD) {
+        showPath(tree.mark[line]);
+      } else if (kind == ITEM) {
+        for (int i = 0; i < tree.mark[line]; i++) {
+          out.append('-');
+        }
+        out.append(' ');
+      } else if (kind == QUOTE) {
+        out.append("> ");
+      } else if (kind == REDIRECT) {
+        Names.copy(tree.whole, tree.from[line], tree.mark[line], out);
       }
-      out.append('\n');
     }
 
     /** Counts a HEAD, and shows its PATH and a blank. */
@@ -2367,6 +2395,7 @@ public final class Pagegarden {
 
     /** Shows what is in a LINE; whenever a PART is put in, its page is gone through first. */
     private void showBody(int line) {
+      style = 0;
       level = 0;
       nodeAt[0] = line + 1;
       cellsAt[0] = 0;
@@ -2377,16 +2406,18 @@ public final class Pagegarden {
         nodeAt[level]++;
         if (kind == NONE || level == 0 && kind < CELL) {
           level--;
-        } else if (kind >= TEXT) {
-          showNode(tree, node, kind);
-        } else {
+        } else if (kind < TEXT) {
           showBetween(kind);
+        } else {
+          boolean isAsking = kind == LINK || kind == PART;
+          showNode(tree, node, isAsking ? ask(tree.name[node]) : NONE);
         }
       }
     }
 
     private Tree treeAt(int depth) {
-      return pages[pageAt[depth]].tree;
+      int page = depth >= 0 && depth <= DEEPEST ? pageAt[depth] : 0;
+      return pages[page >= 0 && page < MOST_PAGES ? page : 0].tree;
     }
 
     /** What stands ahead of a CELL, or ahead of a LINE that is put in. */
@@ -2405,8 +2436,8 @@ public final class Pagegarden {
       }
     }
 
-    private void showNode(Tree tree, int node, int kind) {
-      switch (kind) {
+    private void showNode(Tree tree, int node, int page) {
+      switch (tree.kindAt(node)) {
         case TEXT:
           Names.copy(tree.whole, tree.from[node], tree.to[node], out);
           break;
@@ -2420,10 +2451,10 @@ public final class Pagegarden {
           Names.copy(tree.whole, tree.from[node] + 1, tree.to[node] - 1, out);
           break;
         case LINK:
-          showLink(tree, node);
+          showLink(tree, node, page);
           break;
         case PART:
-          showPart(tree, node);
+          showPart(node, page);
           break;
         case PLACE:
           showPlace(tree, node);
@@ -2445,34 +2476,23 @@ public final class Pagegarden {
       }
     }
 
-    private void showLink(Tree tree, int node) {
+    private void showLink(Tree tree, int node, int page) {
       int naming = tree.mark[node];
       int end = tree.to[node] - 1;
-      if (naming < end) {
-        Names.copy(tree.whole, naming + 1, end, out);
-      } else {
-        Names.copy(tree.whole, tree.from[node] + 1, end, out);
-      }
-      if (ask(tree.name[node]) == NONE) {
+      Names.copy(tree.whole, naming < end ? naming + 1 : tree.from[node] + 1, end, out);
+      if (page == NONE) {
         out.append('?');
       }
     }
 
-    private void showPart(Tree tree, int node) {
-      int page = ask(tree.name[node]);
-      if (page < 0 || page >= MOST_PAGES) {
+    private void showPart(int node, int page) {
+      if (page == NONE) {
         out.append('?');
       } else if (level >= DEEPEST || partCount >= MOST_PARTS || isOnWay(page)) {
         out.append('!');
       } else {
         partCount++;
-        inside |= 1 << page;
-        level++;
-        pageAt[level] = page;
-        partAt[level] = node;
-        nodeAt[level] = 0;
-        linesAt[level] = 0;
-        cellsAt[level] = 0;
+        begin(page, level + 1, node);
       }
     }
 
@@ -2486,30 +2506,14 @@ public final class Pagegarden {
     }
 
     private void showPlace(Tree tree, int node) {
-      int number = tree.whole.charAt(tree.from[node] + 1) - '0';
-      if (level == 0 || !showArgument(treeAt(level - 1), partAt[level], number)) {
+      Tree host = treeAt(level - 1);
+      int part = level > 0 && level <= DEEPEST ? partAt[level] : NONE;
+      int begin = host.argument(part, tree.digit(node));
+      if (begin != NONE) {
+        Names.copy(host.whole, begin, host.argumentEnd(part, begin), out);
+      } else {
         Names.copy(tree.whole, tree.mark[node] + 1, tree.to[node] - 1, out);
       }
-    }
-
-    /** Tells whether the PART has an argument of that number. */
-    private boolean showArgument(Tree tree, int part, int number) {
-      int end = tree.to[part] - 1;
-      int left = number;
-      for (int i = tree.mark[part]; i < end; i++) {
-        if (tree.whole.charAt(i) == '|') {
-          if (left == 0) {
-            int stop = i + 1;
-            while (stop < end && tree.whole.charAt(stop) != '|') {
-              stop++;
-            }
-            Names.copy(tree.whole, i + 1, stop, out);
-            return true;
-          }
-          left--;
-        }
-      }
-      return false;
     }
 
     private void showNote(Tree tree, int node) {
@@ -2528,7 +2532,7 @@ public final class Pagegarden {
       int at = name;
       for (int i = 0; i <= MOST_PAGES && at >= 0 && at < NAMES; i++) {
         asked[at] = web.lead(at);
-        at = web.forward(web.owner(at));
+        at = web.forward(at);
       }
       return web.lead(name);
     }
@@ -2557,8 +2561,12 @@ public final class Pagegarden {
       }
     }
 
-    Kept at(int nth) {
-      return nth >= 0 && nth < count && nth < MOST_KEPT ? rows[nth] : null;
+    int pageAt(int nth) {
+      return nth >= 0 && nth < count && nth < MOST_KEPT ? rows[nth].page : NONE;
+    }
+
+    String answerAt(int nth) {
+      return nth >= 0 && nth < count && nth < MOST_KEPT ? rows[nth].answer : "";
     }
 
     int place(int page) {
@@ -2570,24 +2578,21 @@ public final class Pagegarden {
       return NONE;
     }
 
-    /** What is KEPT of a page, SHOWN last now; null if it is not KEPT. */
-    Kept fetch(int page) {
+    /** Tells whether a page is KEPT; it is SHOWN last now. */
+    boolean fetch(int page) {
       int place = place(page);
-      if (place == NONE) {
-        return null;
-      }
       moveToEnd(place);
-      return at(count - 1);
+      return place != NONE;
     }
 
-    void keep(int page, String answer, Viewer viewer) {
+    void keep(int page, Viewer viewer) {
       if (count >= MOST_KEPT) {
         drop(0);
       }
       Kept row = rows[count];
       row.page = page;
       row.inside = viewer.inside;
-      row.answer = answer;
+      row.answer = viewer.out.toString();
       System.arraycopy(viewer.asked, 0, row.asked, 0, NAMES);
       count++;
     }
