@@ -130,7 +130,7 @@ public final class Pagegarden {
     if (kind == 11) {
       draft.append(a % 3);
     } else {
-      Names.append(a, draft);
+      Names.appendName(a, draft);
     }
     if (b != NONE) {
       draft.append('|');
@@ -170,7 +170,7 @@ public final class Pagegarden {
         break;
       default:
         draft.append('@');
-        Names.append(a, draft);
+        Names.appendName(a, draft);
         break;
     }
   }
@@ -287,7 +287,7 @@ public final class Pagegarden {
     if (!mayPlant(name)) {
       return refuse();
     }
-    begin(slot, name, draft.toString());
+    startPage(slot, name, draft.toString());
     draft.setLength(0);
     settle();
     return slot;
@@ -359,7 +359,7 @@ public final class Pagegarden {
   }
 
   private boolean isRenamable(int old, int name) {
-    int longer = Names.length(name) - Names.length(old);
+    int longer = Names.signsOf(name) - Names.signsOf(old);
     for (int i = 0; i < MOST_PAGES; i++) {
       if (pages[i].isThere) {
         Tree tree = pages[i].tree;
@@ -379,7 +379,7 @@ public final class Pagegarden {
     int slot = freeSlot(name);
     otherOut.setLength(0);
     otherOut.append('[');
-    Names.append(name, otherOut);
+    Names.appendName(name, otherOut);
     otherOut.append(']');
     found.spliceInto(section, otherOut.toString(), out);
     if (!mayChange(found)
@@ -388,7 +388,7 @@ public final class Pagegarden {
         || out.length() > MOST_SIGNS) {
       return refuse();
     }
-    begin(slot, name, found.sectionText(section));
+    startPage(slot, name, found.sectionText(section));
     change(page, out.toString());
     settle();
     return slot;
@@ -410,7 +410,7 @@ public final class Pagegarden {
     change(page, out.toString());
     out.setLength(0);
     out.append('@');
-    Names.append(found.name, out);
+    Names.appendName(found.name, out);
     change(other, out.toString());
     settle();
     return found.newest;
@@ -454,30 +454,30 @@ public final class Pagegarden {
     return found.newest;
   }
 
-  private void begin(int slot, int name, String fresh) {
+  private void startPage(int slot, int name, String fresh) {
     if (slot >= 0 && slot < MOST_PAGES) {
-      pages[slot].begin(name);
-      pages[slot].put(fresh, user);
+      pages[slot].start(name);
+      pages[slot].addVersion(fresh, user);
     }
   }
 
   /** The TEXT of a page becomes another one, if it is one; the web must be settled then. */
   private void change(int page, String fresh) {
     if (page >= 0 && page < MOST_PAGES && !fresh.equals(pages[page].whole)) {
-      pages[page].put(fresh, user);
+      pages[page].addVersion(fresh, user);
       shelf.dropWithInside(page);
     }
   }
 
   /** Who LEADS where is read again, and what is KEPT goes where a question has another answer. */
   private void settle() {
-    web.clear();
+    web.forget();
     for (int i = 0; i < MOST_PAGES; i++) {
       if (pages[i].isThere) {
-        web.put(i, pages[i].name, pages[i].tree);
+        web.addPage(i, pages[i].name, pages[i].tree);
       }
     }
-    web.settle();
+    web.findWays();
     shelf.dropAnsweredOtherwise(web);
   }
 
@@ -592,9 +592,9 @@ public final class Pagegarden {
       case 2:
         return tree.kids[nth];
       case 3:
-        return tree.to[nth] - tree.from[nth];
+        return tree.ends[nth] - tree.starts[nth];
       case 4:
-        return tree.from[nth];
+        return tree.starts[nth];
       default:
         throw new IllegalArgumentException();
     }
@@ -604,7 +604,7 @@ public final class Pagegarden {
     Page found = there(page);
     checkNode(found.tree, nth);
     out.setLength(0);
-    Names.copy(found.whole, found.tree.from[nth], found.tree.to[nth], out);
+    Names.copy(found.whole, found.tree.starts[nth], found.tree.ends[nth], out);
     return out.toString();
   }
 
@@ -699,13 +699,13 @@ public final class Pagegarden {
     if (steps == NONE) {
       return "";
     }
-    Names.append(first.name, out);
+    Names.appendName(first.name, out);
     int at = from;
     for (int left = steps - 1; left >= 0; left--) {
       at = web.nextOnWay(at, left);
       if (at >= 0 && at < MOST_PAGES) {
         out.append('>');
-        Names.append(pages[at].name, out);
+        Names.appendName(pages[at].name, out);
       }
     }
     return out.toString();
@@ -927,7 +927,7 @@ public final class Pagegarden {
       Page found = named(BY_NAMES[i]);
       if (found != null) {
         out.append('%');
-        Names.append(BY_NAMES[i], out);
+        Names.appendName(BY_NAMES[i], out);
         out.append(' ');
         out.append(Names.manyLines(found.whole));
         out.append('\n');
@@ -945,7 +945,7 @@ public final class Pagegarden {
         Page moved = pages[from];
         pages[from] = pages[many];
         pages[many] = moved;
-        begin(many, moved.name, moved.whole);
+        startPage(many, moved.name, moved.whole);
         many++;
       }
     }
@@ -1020,17 +1020,17 @@ public final class Pagegarden {
   }
 
   public boolean isSound() {
-    webAnew.clear();
+    webAnew.forget();
     for (int i = 0; i < MOST_PAGES; i++) {
       if (pages[i].isThere) {
-        anew.read(pages[i].whole, lines);
-        webAnew.put(i, pages[i].name, anew);
+        anew.grow(pages[i].whole, lines);
+        webAnew.addPage(i, pages[i].name, anew);
         if (!isTreeSound(pages[i]) || !isPastSound(pages[i])) {
           return false;
         }
       }
     }
-    webAnew.settle();
+    webAnew.findWays();
     for (int i = 0; i < MOST_PAGES; i++) {
       if (web.here(i) != webAnew.here(i)) {
         return false;
@@ -1047,12 +1047,12 @@ public final class Pagegarden {
 
   private boolean isTreeSound(Page page) {
     page.tree.writeInto(out);
-    boolean hasAll = page.tree.from[0] == 0 && page.tree.to[0] == page.whole.length();
+    boolean hasAll = page.tree.starts[0] == 0 && page.tree.ends[0] == page.whole.length();
     return hasAll && Names.isSame(out, page.whole);
   }
 
   private boolean isPastSound(Page page) {
-    words.read(page.whole);
+    words.gather(page.whole);
     if (words.count != page.wordCount || !page.textOf(page.newest).equals(page.whole)) {
       return false;
     }
@@ -1060,7 +1060,7 @@ public final class Pagegarden {
     String base = page.textOf(Math.min(page.oldest() + 1, page.newest));
     boolean isJoined = weaver.weave(page.whole, old, base, out);
     boolean isJoinedOtherwise = weaver.weave(old, page.whole, base, otherOut);
-    return isJoined == isJoinedOtherwise && (!isJoined || Names.isSame(out, otherOut));
+    return isJoined == isJoinedOtherwise && (!isJoined || Names.areSame(out, otherOut));
   }
 
   private boolean areRanksSound() {
@@ -1205,12 +1205,12 @@ public final class Pagegarden {
       return prefix == 0 || own == prefix || own == 3 && prefix == 1;
     }
 
-    static void append(int name, StringBuilder out) {
+    static void appendName(int name, StringBuilder out) {
       out.append(prefix(name / WORDS));
       out.append(word(name % WORDS));
     }
 
-    static int length(int name) {
+    static int signsOf(int name) {
       return prefix(name / WORDS).length() + word(name % WORDS).length();
     }
 
@@ -1302,7 +1302,7 @@ public final class Pagegarden {
       return behind(one, 0, other) == one.length();
     }
 
-    static boolean isSame(StringBuilder one, StringBuilder other) {
+    static boolean areSame(StringBuilder one, StringBuilder other) {
       if (one.length() != other.length()) {
         return false;
       }
@@ -1335,7 +1335,7 @@ public final class Pagegarden {
     int ahead;
     int behind;
 
-    void read(String given) {
+    void cut(String given) {
       whole = given;
       begins[0] = 0;
       count = 1;
@@ -1353,7 +1353,8 @@ public final class Pagegarden {
 
     /** Where a LINE ends, its LINE END not counted. */
     int end(int nth) {
-      return nth + 1 < count ? begin(nth + 1) - 1 : whole.length();
+      boolean isInside = nth >= 0 && nth + 1 < count && nth + 1 < MOST_LINES;
+      return isInside ? begins[nth + 1] - 1 : whole.length();
     }
 
     void compareWith(Lines base) {
@@ -1392,7 +1393,7 @@ public final class Pagegarden {
     private String whole = "";
     int count;
 
-    void read(String given) {
+    void gather(String given) {
       whole = given;
       count = 0;
       int at = 0;
@@ -1411,7 +1412,7 @@ public final class Pagegarden {
     }
 
     boolean isIn(String given, String word) {
-      read(given);
+      gather(given);
       for (int i = 0; i < count && i < MOST_WORDS; i++) {
         if (Names.isPiece(given, begins[i], ends[i], word)) {
           return true;
@@ -1447,8 +1448,8 @@ public final class Pagegarden {
     private static final int MOST_OPEN = 10;
 
     final int[] kind = new int[MOST_NODES];
-    final int[] from = new int[MOST_NODES];
-    final int[] to = new int[MOST_NODES];
+    final int[] starts = new int[MOST_NODES];
+    final int[] ends = new int[MOST_NODES];
     final int[] depth = new int[MOST_NODES];
     final int[] kids = new int[MOST_NODES];
     // The LEVEL or DEPTH; of what has a NAMING text, or a PLACE, where that, or the digit, ends.
@@ -1462,30 +1463,36 @@ public final class Pagegarden {
     private int foundKind;
     private int foundMark;
 
-    void read(String given, Lines lines) {
+    void grow(String given, Lines lines) {
       whole = given;
       count = 0;
       openCount = 0;
-      lines.read(given);
-      begin(PAGE, 0, 0);
+      lines.cut(given);
+      openNode(PAGE, 0, 0);
       for (int i = 0; i < lines.count; i++) {
         int from = lines.begin(i);
         int end = lines.end(i);
         int line = kindOfLine(i == 0, from, end);
         int level = line == HEAD || line == ITEM ? manySame(from, end) : 0;
-        beginLine(line, from, level);
+        openLine(line, from, level);
         if (line == ROW) {
-          readRow(from, end);
+          for (int at = from + 1; at <= end; at++) {
+            int stop = cellEnd(at, end);
+            openNode(CELL, at, 0);
+            readBody(at, stop);
+            closeNode(stop);
+            at = Math.max(at, stop);
+          }
         } else if (line != REDIRECT) {
           readBody(line == QUOTE ? from + 1 : from + level, end);
         }
         // An ITEM ends where a LINE comes that is not in it.
         if (line != ITEM) {
-          end(lines.begin(i + 1));
+          closeNode(lines.begin(i + 1));
         }
       }
       for (int i = 0; i < MOST_OPEN; i++) {
-        end(given.length());
+        closeNode(given.length());
       }
       findNames();
     }
@@ -1505,7 +1512,7 @@ public final class Pagegarden {
       if (sign == '|') {
         return ROW;
       }
-      boolean isNaming = from + 1 < end && namingEnd(from + 1, end) == end;
+      boolean isNaming = from + 1 < end && lettersEnd(from + 1, end, true) == end;
       return isFirst && sign == '@' && isNaming ? REDIRECT : PLAIN;
     }
 
@@ -1518,28 +1525,21 @@ public final class Pagegarden {
       return at - from;
     }
 
-    private void beginLine(int line, int from, int level) {
-      endAll(ITEM, line == ITEM ? level : 0, from);
+    private void openLine(int line, int from, int level) {
+      closeAll(ITEM, line == ITEM ? level : 0, from);
       if (line == HEAD) {
-        endAll(SECTION, level, from);
-        begin(SECTION, from, level);
+        closeAll(SECTION, level, from);
+        openNode(SECTION, from, level);
       }
-      begin(line, from, level);
+      openNode(line, from, level);
     }
 
-    /** The CELLS of a ROW: one behind each "|". */
-    private void readRow(int from, int end) {
+    private int cellEnd(int from, int end) {
       int at = from;
-      while (at < end) {
-        int stop = at + 1;
-        while (stop < end && whole.charAt(stop) != '|') {
-          stop++;
-        }
-        begin(CELL, at + 1, 0);
-        readBody(at + 1, stop);
-        end(stop);
-        at = stop;
+      while (at < end && whole.charAt(at) != '|') {
+        at++;
       }
+      return at;
     }
 
     private void readBody(int from, int end) {
@@ -1549,8 +1549,7 @@ public final class Pagegarden {
         int stop = markEnd(at, end);
         if (stop > at) {
           addText(told, at);
-          begin(foundKind, at, foundMark);
-          end(stop);
+          addNode(foundKind, at, stop, foundMark);
           at = stop;
           told = stop;
         } else {
@@ -1562,8 +1561,7 @@ public final class Pagegarden {
 
     private void addText(int from, int end) {
       if (from < end) {
-        begin(TEXT, from, 0);
-        end(end);
+        addNode(TEXT, from, end, 0);
       }
     }
 
@@ -1578,7 +1576,7 @@ public final class Pagegarden {
         return at + 1;
       }
       if (foundKind == KIND) {
-        int stop = lettersEnd(at + 1, end);
+        int stop = lettersEnd(at + 1, end, false);
         return stop > at + 1 ? stop : NONE;
       }
       int closing = closingSign(at, end);
@@ -1586,7 +1584,7 @@ public final class Pagegarden {
         return NONE;
       }
       if (foundKind == LINK || foundKind == PART) {
-        foundMark = namingEnd(at + 1, closing);
+        foundMark = lettersEnd(at + 1, closing, true);
         if (foundKind == PART && foundMark == at + 1 && isDigit(at + 1)) {
           foundKind = PLACE;
           foundMark = at + 2;
@@ -1640,41 +1638,46 @@ public final class Pagegarden {
       return whole.charAt(at) >= '0' && whole.charAt(at) <= '2';
     }
 
-    private int lettersEnd(int from, int end) {
+    /** Where LETTERS end, and "/" with them, if it is a NAMING text. */
+    private int lettersEnd(int from, int end, boolean isNaming) {
       int at = from;
-      while (at < end && Names.isLetter(whole.charAt(at))) {
+      while (at < end) {
+        char sign = whole.charAt(at);
+        boolean isIn = sign >= 'a' && sign <= 'j' || isNaming && sign == '/';
+        if (!isIn) {
+          return at;
+        }
         at++;
       }
       return at;
     }
 
-    private int namingEnd(int from, int end) {
-      int at = from;
-      while (at < end && (Names.isLetter(whole.charAt(at)) || whole.charAt(at) == '/')) {
-        at++;
-      }
-      return at;
-    }
-
-    /** A new NODE in the one that is open, and open from now on. */
-    private void begin(int newKind, int at, int newMark) {
-      if (count >= MOST_NODES || openCount >= MOST_OPEN) {
+    /** A new NODE in the one that is open. */
+    private void addNode(int newKind, int from, int end, int newMark) {
+      if (count < 0 || count >= MOST_NODES) {
         return;
       }
       kind[count] = newKind;
-      from[count] = at;
-      to[count] = at;
+      starts[count] = from;
+      ends[count] = end;
       depth[count] = openCount;
       kids[count] = 0;
       mark[count] = newMark;
       name[count] = NONE;
-      int around = lastOpen();
-      if (around != NONE) {
+      int around = openCount > 0 && openCount <= MOST_OPEN ? open[openCount - 1] : NONE;
+      if (around >= 0 && around < MOST_NODES) {
         kids[around]++;
       }
-      open[openCount] = count;
-      openCount++;
       count++;
+    }
+
+    /** A new NODE in the one that is open, and open from now on. */
+    private void openNode(int newKind, int from, int newMark) {
+      addNode(newKind, from, from, newMark);
+      if (openCount >= 0 && openCount < MOST_OPEN) {
+        open[openCount] = count - 1;
+        openCount++;
+      }
     }
 
     private int lastOpen() {
@@ -1682,20 +1685,21 @@ public final class Pagegarden {
       return node < MOST_NODES ? node : NONE;
     }
 
-    private void end(int at) {
+    private void closeNode(int at) {
       int node = lastOpen();
-      if (node != NONE) {
-        to[node] = at;
+      if (node >= 0) {
+        ends[node] = at;
         openCount--;
       }
     }
 
     /** Ends the open NODES of a KIND with that LEVEL or more. */
-    private void endAll(int ending, int level, int at) {
+    private void closeAll(int closing, int level, int at) {
       for (int i = 0; i < 3; i++) {
         int node = lastOpen();
-        if (node != NONE && kind[node] == ending && mark[node] >= level) {
-          end(at);
+        if (node >= 0 && kind[node] == closing && mark[node] >= level) {
+          ends[node] = at;
+          openCount--;
         }
       }
     }
@@ -1706,7 +1710,7 @@ public final class Pagegarden {
           mark[i] = lineEnd(i);
         }
         if (kind[i] == LINK || kind[i] == PART || kind[i] == REDIRECT) {
-          name[i] = Names.nameAt(whole, from[i] + 1, mark[i]);
+          name[i] = Names.nameAt(whole, starts[i] + 1, mark[i]);
         }
       }
     }
@@ -1741,7 +1745,7 @@ public final class Pagegarden {
 
     boolean hasKind(String word) {
       for (int i = 0; i < count && i < MOST_NODES; i++) {
-        if (kind[i] == KIND && Names.isPiece(whole, from[i] + 1, to[i], word)) {
+        if (kind[i] == KIND && Names.isPiece(whole, starts[i] + 1, ends[i], word)) {
           return true;
         }
       }
@@ -1769,8 +1773,8 @@ public final class Pagegarden {
       int told = 0;
       for (int i = 0; i < count && i < MOST_NODES; i++) {
         if (isNamingAt(i, old)) {
-          Names.copy(whole, told, from[i] + 1, out);
-          Names.append(fresh, out);
+          Names.copy(whole, told, starts[i] + 1, out);
+          Names.appendName(fresh, out);
           told = mark[i];
         }
       }
@@ -1779,15 +1783,17 @@ public final class Pagegarden {
 
     /** The digit of a PLACE. */
     int digit(int node) {
-      int at = kindAt(node) == PLACE ? from[node] + 1 : whole.length();
+      int at = node >= 0 && node < count && node < MOST_NODES ? starts[node] + 1 : whole.length();
       return at < whole.length() ? whole.charAt(at) - '0' : NONE;
     }
 
     /** Where an argument of a PART begins; NONE if it has none of that number. */
     int argument(int part, int number) {
+      if (part < 0 || part >= count || part >= MOST_NODES) {
+        return NONE;
+      }
       int left = number;
-      int end = kindAt(part) == PART ? to[part] - 1 : 0;
-      for (int i = end > 0 ? mark[part] : 0; i < end; i++) {
+      for (int i = mark[part]; i < ends[part] - 1; i++) {
         if (whole.charAt(i) == '|') {
           if (left == 0) {
             return i + 1;
@@ -1799,17 +1805,13 @@ public final class Pagegarden {
     }
 
     int argumentEnd(int part, int begin) {
-      int end = kindAt(part) == PART ? to[part] - 1 : begin;
-      int at = begin;
-      while (at < end && whole.charAt(at) != '|') {
-        at++;
-      }
-      return at;
+      boolean isThere = part >= 0 && part < count && part < MOST_NODES;
+      return isThere ? cellEnd(begin, ends[part] - 1) : begin;
     }
 
     /** Where the LINE that begins at a NODE ends, its LINE END not counted. */
     int lineEnd(int node) {
-      int at = node >= 0 && node < count && node < MOST_NODES ? from[node] : whole.length();
+      int at = node >= 0 && node < count && node < MOST_NODES ? starts[node] : whole.length();
       while (at < whole.length() && whole.charAt(at) != '\n') {
         at++;
       }
@@ -1830,7 +1832,7 @@ public final class Pagegarden {
         } else if (kind[i] == CELL) {
           out.append('|');
         } else if (kind[i] >= TEXT) {
-          Names.copy(whole, from[i], to[i], out);
+          Names.copy(whole, starts[i], ends[i], out);
         }
       }
     }
@@ -1840,7 +1842,7 @@ public final class Pagegarden {
         out.append('>');
       } else if (kind[node] == REDIRECT) {
         out.append('@');
-        Names.copy(whole, from[node] + 1, mark[node], out);
+        Names.copy(whole, starts[node] + 1, mark[node], out);
       } else if (kind[node] == HEAD || kind[node] == ITEM) {
         for (int i = 0; i < mark[node]; i++) {
           out.append(kind[node] == HEAD ? '=' : '*');
@@ -1877,8 +1879,8 @@ public final class Pagegarden {
       this.after = after;
     }
 
-    /** A page that has no VERSION yet: its first TEXT must be put. */
-    void begin(int newName) {
+    /** A page that has no VERSION yet: its first one must be added next. */
+    void start(int newName) {
       isThere = true;
       name = newName;
       whole = "";
@@ -1890,18 +1892,18 @@ public final class Pagegarden {
     }
 
     /** The next VERSION. */
-    void put(String fresh, int user) {
+    void addVersion(String fresh, int user) {
       inherit(fresh, user);
       newest++;
       whole = fresh;
       versions[Math.floorMod(newest, MOST_KEPT_VERSIONS)] = new Signed(fresh, user);
-      tree.read(fresh, lines);
+      tree.grow(fresh, lines);
     }
 
     /** WRITERS of WORDS that stay keep them, from both ends. */
     private void inherit(String fresh, int user) {
-      before.read(whole);
-      after.read(fresh);
+      before.gather(whole);
+      after.gather(fresh);
       int most = Math.min(before.count, after.count);
       int first = 0;
       while (first < most && before.isSameWord(first, after, first)) {
@@ -1937,7 +1939,7 @@ public final class Pagegarden {
 
     private int sectionFrom(int section) {
       int node = section > 0 ? tree.nthOf(SECTION, section - 1) : NONE;
-      return node >= 0 && node < MOST_NODES ? tree.from[node] : 0;
+      return node >= 0 && node < MOST_NODES ? tree.starts[node] : 0;
     }
 
     /** Where the LINES of a section end, the last one's LINE END counted. */
@@ -1946,7 +1948,7 @@ public final class Pagegarden {
       if (node < 0 || node >= MOST_NODES) {
         return whole.length();
       }
-      return section > 0 ? tree.to[node] : tree.from[node];
+      return section > 0 ? tree.ends[node] : tree.starts[node];
     }
 
     /** Only a section 0 can be so: a HEAD, which has a SIGN, stands where it would begin. */
@@ -2002,9 +2004,9 @@ public final class Pagegarden {
         out.append(x);
         return true;
       }
-      one.read(x);
-      other.read(y);
-      base.read(z);
+      one.cut(x);
+      other.cut(y);
+      base.cut(z);
       one.compareWith(base);
       other.compareWith(base);
       if (isAheadOf(one, other)) {
@@ -2068,11 +2070,11 @@ public final class Pagegarden {
     private final long[] sharesBefore = new long[MOST_PAGES];
 
     Web() {
-      clear();
-      settle();
+      forget();
+      findWays();
     }
 
-    void clear() {
+    void forget() {
       count = 0;
       present = 0;
       Arrays.fill(owners, NONE);
@@ -2080,7 +2082,7 @@ public final class Pagegarden {
       Arrays.fill(linked, 0L);
     }
 
-    void put(int page, int name, Tree tree) {
+    void addPage(int page, int name, Tree tree) {
       if (page < 0 || page >= MOST_PAGES || name < 0 || name >= NAMES) {
         return;
       }
@@ -2096,7 +2098,7 @@ public final class Pagegarden {
       }
     }
 
-    void settle() {
+    void findWays() {
       for (int name = 0; name < NAMES; name++) {
         leads[name] = follow(name);
       }
@@ -2160,7 +2162,7 @@ public final class Pagegarden {
       return isPresent(page) ? redirects[page] : NONE;
     }
 
-    /** The NAME that one with a REDIRECT leads on to, NONE if there is no such page. */
+    /** The NAME in the REDIRECT of the page with a NAME; below 0 without one. */
     int forward(int name) {
       int page = owner(name);
       return page >= 0 && page < MOST_PAGES ? forwards[page] : NONE;
@@ -2313,7 +2315,7 @@ public final class Pagegarden {
       for (int i = 0; i < tree.count && i < MOST_NODES; i++) {
         if (tree.kind[i] == HEAD) {
           showPath(tree.mark[i]);
-          Names.copy(tree.whole, tree.from[i] + tree.mark[i], tree.lineEnd(i), out);
+          Names.copy(tree.whole, tree.starts[i] + tree.mark[i], tree.lineEnd(i), out);
           out.append('\n');
         }
       }
@@ -2329,7 +2331,7 @@ public final class Pagegarden {
       inside = 0;
       Arrays.fill(asked, NOT_ASKED);
       Arrays.fill(path, 0);
-      begin(page, 0, 0);
+      enter(page, 0, 0);
       Tree tree = treeAt(0);
       for (int i = 0; i < tree.count && i < MOST_NODES; i++) {
         if (tree.kind[i] >= HEAD && tree.kind[i] <= PLAIN) {
@@ -2347,7 +2349,7 @@ public final class Pagegarden {
     }
 
     /** Comes to a page that stands in so many PARTS, the last of them that NODE. */
-    private void begin(int page, int newLevel, int part) {
+    private void enter(int page, int newLevel, int part) {
       if (page >= 0 && page < MOST_PAGES && newLevel >= 0 && newLevel <= DEEPEST) {
         level = newLevel;
         inside |= 1 << page;
@@ -2371,7 +2373,7 @@ public final class Pagegarden {
       } else if (kind == QUOTE) {
         out.append("> ");
       } else if (kind == REDIRECT) {
-        Names.copy(tree.whole, tree.from[line], tree.mark[line], out);
+        Names.copy(tree.whole, tree.starts[line], tree.mark[line], out);
       }
     }
 
@@ -2439,7 +2441,7 @@ public final class Pagegarden {
     private void showNode(Tree tree, int node, int page) {
       switch (tree.kindAt(node)) {
         case TEXT:
-          Names.copy(tree.whole, tree.from[node], tree.to[node], out);
+          Names.copy(tree.whole, tree.starts[node], tree.ends[node], out);
           break;
         case BOLD:
           showStyle(1);
@@ -2448,7 +2450,7 @@ public final class Pagegarden {
           showStyle(2);
           break;
         case CODE:
-          Names.copy(tree.whole, tree.from[node] + 1, tree.to[node] - 1, out);
+          Names.copy(tree.whole, tree.starts[node] + 1, tree.ends[node] - 1, out);
           break;
         case LINK:
           showLink(tree, node, page);
@@ -2478,8 +2480,8 @@ public final class Pagegarden {
 
     private void showLink(Tree tree, int node, int page) {
       int naming = tree.mark[node];
-      int end = tree.to[node] - 1;
-      Names.copy(tree.whole, naming < end ? naming + 1 : tree.from[node] + 1, end, out);
+      int end = tree.ends[node] - 1;
+      Names.copy(tree.whole, naming < end ? naming + 1 : tree.starts[node] + 1, end, out);
       if (page == NONE) {
         out.append('?');
       }
@@ -2492,7 +2494,7 @@ public final class Pagegarden {
         out.append('!');
       } else {
         partCount++;
-        begin(page, level + 1, node);
+        enter(page, level + 1, node);
       }
     }
 
@@ -2512,7 +2514,7 @@ public final class Pagegarden {
       if (begin != NONE) {
         Names.copy(host.whole, begin, host.argumentEnd(part, begin), out);
       } else {
-        Names.copy(tree.whole, tree.mark[node] + 1, tree.to[node] - 1, out);
+        Names.copy(tree.whole, tree.mark[node] + 1, tree.ends[node] - 1, out);
       }
     }
 
@@ -2523,7 +2525,7 @@ public final class Pagegarden {
       notes.append('^');
       notes.append(noteCount);
       notes.append(": ");
-      Names.copy(tree.whole, tree.from[node] + 1, tree.to[node] - 1, notes);
+      Names.copy(tree.whole, tree.starts[node] + 1, tree.ends[node] - 1, notes);
       notes.append('\n');
     }
 
@@ -2589,12 +2591,14 @@ public final class Pagegarden {
       if (count >= MOST_KEPT) {
         drop(0);
       }
-      Kept row = rows[count];
-      row.page = page;
-      row.inside = viewer.inside;
-      row.answer = viewer.out.toString();
-      System.arraycopy(viewer.asked, 0, row.asked, 0, NAMES);
-      count++;
+      if (count >= 0 && count < MOST_KEPT) {
+        Kept row = rows[count];
+        row.page = page;
+        row.inside = viewer.inside;
+        row.answer = viewer.out.toString();
+        System.arraycopy(viewer.asked, 0, row.asked, 0, NAMES);
+        count++;
+      }
     }
 
     void clear() {
