@@ -1477,7 +1477,7 @@ public final class Pagegarden {
         openLine(line, from, level);
         if (line == ROW) {
           for (int at = from + 1; at <= end; at++) {
-            int stop = cellEnd(at, end);
+            int stop = barOrEnd(at, end);
             openNode(CELL, at, 0);
             readBody(at, stop);
             closeNode(stop);
@@ -1534,7 +1534,8 @@ public final class Pagegarden {
       openNode(line, from, level);
     }
 
-    private int cellEnd(int from, int end) {
+    /** Where a CELL, or an argument, ends. */
+    int barOrEnd(int from, int end) {
       int at = from;
       while (at < end && whole.charAt(at) != '|') {
         at++;
@@ -1802,11 +1803,6 @@ public final class Pagegarden {
         }
       }
       return NONE;
-    }
-
-    int argumentEnd(int part, int begin) {
-      boolean isThere = part >= 0 && part < count && part < MOST_NODES;
-      return isThere ? cellEnd(begin, ends[part] - 1) : begin;
     }
 
     /** Where the LINE that begins at a NODE ends, its LINE END not counted. */
@@ -2511,8 +2507,8 @@ public final class Pagegarden {
       Tree host = treeAt(level - 1);
       int part = level > 0 && level <= DEEPEST ? partAt[level] : NONE;
       int begin = host.argument(part, tree.digit(node));
-      if (begin != NONE) {
-        Names.copy(host.whole, begin, host.argumentEnd(part, begin), out);
+      if (begin != NONE && part >= 0 && part < MOST_NODES) {
+        Names.copy(host.whole, begin, host.barOrEnd(begin, host.ends[part] - 1), out);
       } else {
         Names.copy(tree.whole, tree.mark[node] + 1, tree.ends[node] - 1, out);
       }
