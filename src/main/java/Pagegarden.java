@@ -60,16 +60,16 @@ public final class Pagegarden {
   private final StringBuilder draft = new StringBuilder();
   private final StringBuilder out = new StringBuilder();
   private final StringBuilder otherOut = new StringBuilder();
-  private final Page[] pages = new Page[MOST_PAGES];
   private final int[] prefixRights = new int[USERS * PREFIXES];
-  private final Lines lines = new Lines();
-  private final Words words = new Words();
   private final Tree anew = new Tree();
   private final Weaver weaver = new Weaver();
-  private final Web web = new Web();
   private final Web webAnew = new Web();
   private final Shelf shelf = new Shelf();
-  private final Viewer viewer = new Viewer(pages, web);
+  private final Page[] pages;
+  private final Lines lines;
+  private final Words words;
+  private final Web web;
+  private final Viewer viewer;
   private int user;
   private int refusals;
   private int knocks;
@@ -77,10 +77,19 @@ public final class Pagegarden {
   private int shownKept;
 
   public Pagegarden() {
-    Words spare = new Words();
+    Lines lentLines = new Lines();
+    Words lentWords = new Words();
+    Words spareWords = new Words();
+    Page[] slots = new Page[MOST_PAGES];
     for (int i = 0; i < MOST_PAGES; i++) {
-      pages[i] = new Page(lines, words, spare);
+      slots[i] = new Page(lentLines, lentWords, spareWords);
     }
+    Web ways = new Web();
+    pages = slots;
+    lines = lentLines;
+    words = lentWords;
+    web = ways;
+    viewer = new Viewer(slots, ways);
     Arrays.fill(prefixRights, NONE);
   }
 
