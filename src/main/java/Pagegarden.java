@@ -2362,7 +2362,6 @@ public final class Pagegarden {
         partAt[level] = part;
         nodeAt[level] = 0;
         linesAt[level] = 0;
-        cellsAt[level] = 0;
       }
     }
 

@@ -2,6 +2,7 @@
 public final class LinksTest {
   public static void main(String[] args) {
     leads();
+    followsEveryChange();
     tellsSets();
     walks();
     ranks();
@@ -37,6 +38,48 @@ public final class LinksTest {
     Gardens.plant(g, 5, "@fig");
     Check.due("a page that leads on to itself", -1, () -> g.ofPage(5, 10));
     Check.due("a page that leads on to that", -1, () -> g.ofPage(4, 10));
+  }
+
+  /** Whatever changes a text, a name or who is there: links lead where they do then. */
+  private static void followsEveryChange() {
+    Pagegarden g = new Pagegarden();
+    Gardens.plant(g, 0, "[ba]");
+    leadsTo(g, "planted", 0);
+    Gardens.plant(g, 1, "[ab]");
+    leadsTo(g, "planted the other one", 2);
+    Gardens.write(g, 0, "");
+    leadsTo(g, "written", 0);
+    Gardens.draft(g, "[ba]");
+    g.writeOver(0, 1);
+    leadsTo(g, "written over", 2);
+    Gardens.draft(g, "");
+    g.writeSection(0, 0);
+    leadsTo(g, "a section written", 0);
+    g.restore(0, 0);
+    leadsTo(g, "restored", 2);
+    g.undoEdit(0, g.ofPage(0, 3));
+    leadsTo(g, "undone", 0);
+    g.restore(0, 0);
+    g.rename(1, 2);
+    leadsTo(g, "renamed", 2);
+    Gardens.plant(g, 1, "");
+    g.merge(2, 1);
+    Check.due("merged: it leads on", 4, () -> g.sets(1, 0));
+    leadsTo(g, "merged: through it", 4);
+    Check.due("split", 3, () -> g.split(0, 0, 5));
+    leadsTo(g, "split", 8);
+    g.uproot(3);
+    leadsTo(g, "uprooted", 0);
+    g.restore(0, 0);
+    g.rename(0, 39);
+    // By names: "a/b/jig", "ba", "cad".
+    g.reload();
+    Check.due("reloaded", 1, () -> g.link(0, 0));
+    Check.due("reloaded", 0, () -> g.link(1, 0));
+  }
+
+  private static void leadsTo(Pagegarden g, String what, int due) {
+    Check.due(what, due, () -> g.sets(0, 0));
   }
 
   private static void sets(Pagegarden g, int page, int... due) {

@@ -179,13 +179,18 @@ public final class ShownTest {
     kept(g, 1 + 4 + 16 + 32);
     g.uproot(4);
     kept(g, 1 + 4 + 32);
+    Gardens.plant(g, 4, "jig");
+    kept(g, 1 + 4 + 32);
+    Check.due("a new page is not the old one", "jig\n", () -> g.shown(4));
+    Check.due("anew", 8, () -> g.garden(4));
+    g.uproot(4);
     g.shown(1);
     kept(g, 1 + 2 + 4 + 32);
     g.shown(3);
     kept(g, 1 + 2 + 4 + 8);
     g.reload();
     kept(g, 0);
-    Check.due("reload keeps how often", 9, () -> g.garden(4));
+    Check.due("reload keeps how often", 10, () -> g.garden(4));
     Check.due("reload keeps how often", 1, () -> g.garden(5));
   }
 

@@ -15,6 +15,7 @@ public final class TreeTest {
     tellsOfPages();
     listsContents();
     tellsSections();
+    readsAgain();
     fullRows();
     wrongInputs();
     Check.end("TreeTest");
@@ -263,6 +264,20 @@ public final class TreeTest {
     Gardens.write(g, 0, "");
     Check.due("section 0 of the empty text", "", () -> g.section(0, 0));
     Check.noArgument("no section 1", g, () -> g.section(0, 1));
+  }
+
+  /** Nothing of the tree before is left. */
+  private static void readsAgain() {
+    Pagegarden g = new Pagegarden();
+    Gardens.plant(g, 0, "=a\n|b|[ab]{ba}\n*c\n**'\n");
+    Gardens.write(g, 0, "{ba}\n[ba]\n\n`a`(b)#c\n*a");
+    Check.due("the tree",
+        "0(8(15<{ba}>) 8(14<[ba]>) 7<\n> 8(13<`a`> 17<(b)> 18<#c>) 3(10<a>))",
+        () -> Gardens.tree(g, 0));
+    Gardens.write(g, 0, "*a\n\n");
+    Check.due("the tree", "0(3(10<a>) 7<\n> 7<>)", () -> Gardens.tree(g, 0));
+    Gardens.write(g, 0, "");
+    Check.due("the tree", "0(7<>)", () -> Gardens.tree(g, 0));
   }
 
   /** The texts that have the most lines, nodes and words. */
