@@ -949,8 +949,9 @@ public final class Pagegarden {
   public int reload() {
     int many = 0;
     for (int i = 0; i < NAMES && many < MOST_PAGES; i++) {
+      // While pages change places, the web does not know where they are.
       int from = slotOf(BY_NAMES[i]);
-      if (from != NONE) {
+      if (from >= 0 && from < MOST_PAGES) {
         Page moved = pages[from];
         pages[from] = pages[many];
         pages[many] = moved;
@@ -963,7 +964,7 @@ public final class Pagegarden {
     return many;
   }
 
-  /** Where the page with that NAME is now: while pages change places, the web does not know. */
+  /** Where the page with that NAME is, asked of the pages and not of the web. */
   private int slotOf(int name) {
     for (int i = 0; i < MOST_PAGES; i++) {
       if (pages[i].isThere && pages[i].name == name) {
@@ -1087,9 +1088,9 @@ public final class Pagegarden {
     writeExport();
     int at = 0;
     for (int i = 0; i < NAMES && at != NONE; i++) {
-      Page found = named(BY_NAMES[i]);
-      if (found != null) {
-        at = readExported(at, BY_NAMES[i], found.whole);
+      int slot = slotOf(BY_NAMES[i]);
+      if (slot >= 0 && slot < MOST_PAGES) {
+        at = readExported(at, BY_NAMES[i], pages[slot].whole);
       }
     }
     return at == out.length();
