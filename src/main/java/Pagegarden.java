@@ -95,7 +95,7 @@ public final class Pagegarden {
 
   // ---- the draft
 
-  public int add(int kind, int a, int b) {
+  public int add(int kind, int a, int b) throws IllegalArgumentException {
     if (kind < 0 || kind > 14 || a < 0 || a >= NAMES || b < NONE || b >= WORDS) {
       throw new IllegalArgumentException();
     }
@@ -190,7 +190,7 @@ public final class Pagegarden {
     return many > 0 ? draft.charAt(many - 1) : ' ';
   }
 
-  public int type(int sign) {
+  public int type(int sign) throws IllegalArgumentException, IllegalStateException {
     if (sign < 0 || sign >= SIGNS.length()) {
       throw new IllegalArgumentException();
     }
@@ -201,7 +201,7 @@ public final class Pagegarden {
     return draft.length();
   }
 
-  public int rub(int many) {
+  public int rub(int many) throws IllegalArgumentException {
     if (many < 1 || many > MOST_DRAFT) {
       throw new IllegalArgumentException();
     }
@@ -213,7 +213,8 @@ public final class Pagegarden {
     return draft.toString();
   }
 
-  public int take(int page, int version) {
+  public int take(int page, int version)
+      throws IndexOutOfBoundsException, IllegalArgumentException, IllegalStateException {
     String taken = keptText(there(page), version);
     if (taken.length() > MOST_DRAFT) {
       throw new IllegalStateException();
@@ -225,14 +226,14 @@ public final class Pagegarden {
 
   // ---- users
 
-  public int login(int user) {
+  public int login(int user) throws IllegalArgumentException {
     checkUser(user);
     int before = this.user;
     this.user = user;
     return before;
   }
 
-  public int allow(int user, int prefix, int right) {
+  public int allow(int user, int prefix, int right) throws IllegalArgumentException {
     checkUser(user);
     if (prefix < 0 || prefix >= PREFIXES || right < NONE || right > MAY_CHANGE) {
       throw new IllegalArgumentException();
@@ -243,7 +244,8 @@ public final class Pagegarden {
     return before;
   }
 
-  public int allowPage(int user, int page, int right) {
+  public int allowPage(int user, int page, int right)
+      throws IndexOutOfBoundsException, IllegalArgumentException {
     Page found = there(page);
     checkUser(user);
     if (right < NONE || right > MAY_CHANGE) {
@@ -254,7 +256,7 @@ public final class Pagegarden {
     return before;
   }
 
-  public int right(int user, int page) {
+  public int right(int user, int page) throws IndexOutOfBoundsException, IllegalArgumentException {
     Page found = there(page);
     checkUser(user);
     return found.rights[user] != NONE ? found.rights[user] : rightByPrefix(user, found.name);
@@ -290,7 +292,7 @@ public final class Pagegarden {
 
   // ---- pages
 
-  public int plant(int name) {
+  public int plant(int name) throws IllegalArgumentException, IllegalStateException {
     checkName(name);
     int slot = freeSlot(name);
     if (!mayPlant(name)) {
@@ -302,7 +304,7 @@ public final class Pagegarden {
     return slot;
   }
 
-  public int write(int page) {
+  public int write(int page) throws IndexOutOfBoundsException {
     Page found = there(page);
     if (!mayChange(found)) {
       return refuse();
@@ -313,7 +315,8 @@ public final class Pagegarden {
     return found.newest;
   }
 
-  public int writeOver(int page, int version) {
+  public int writeOver(int page, int version)
+      throws IndexOutOfBoundsException, IllegalArgumentException {
     Page found = there(page);
     String base = keptText(found, version);
     if (!mayChange(found)
@@ -327,7 +330,8 @@ public final class Pagegarden {
     return found.newest;
   }
 
-  public int writeSection(int page, int section) {
+  public int writeSection(int page, int section)
+      throws IndexOutOfBoundsException, IllegalArgumentException {
     Page found = there(page);
     checkSection(found, section);
     found.spliceInto(section, draft.toString(), out);
@@ -340,7 +344,8 @@ public final class Pagegarden {
     return found.newest;
   }
 
-  public int rename(int page, int name) {
+  public int rename(int page, int name)
+      throws IndexOutOfBoundsException, IllegalArgumentException, IllegalStateException {
     Page found = there(page);
     checkName(name);
     int owner = web.owner(name);
@@ -381,7 +386,8 @@ public final class Pagegarden {
     return true;
   }
 
-  public int split(int page, int section, int name) {
+  public int split(int page, int section, int name)
+      throws IndexOutOfBoundsException, IllegalArgumentException, IllegalStateException {
     Page found = there(page);
     checkSection(found, section);
     checkName(name);
@@ -403,7 +409,7 @@ public final class Pagegarden {
     return slot;
   }
 
-  public int merge(int page, int other) {
+  public int merge(int page, int other) throws IndexOutOfBoundsException, IllegalArgumentException {
     Page found = there(page);
     Page second = there(other);
     if (page == other) {
@@ -425,7 +431,7 @@ public final class Pagegarden {
     return found.newest;
   }
 
-  public int uproot(int page) {
+  public int uproot(int page) throws IndexOutOfBoundsException {
     Page found = there(page);
     if (!mayChange(found)) {
       return refuse();
@@ -436,7 +442,8 @@ public final class Pagegarden {
     return web.count;
   }
 
-  public int undoEdit(int page, int version) {
+  public int undoEdit(int page, int version)
+      throws IndexOutOfBoundsException, IllegalArgumentException {
     Page found = there(page);
     String undone = keptText(found, version);
     if (!found.isKept(version - 1)) {
@@ -452,7 +459,8 @@ public final class Pagegarden {
     return found.newest;
   }
 
-  public int restore(int page, int version) {
+  public int restore(int page, int version)
+      throws IndexOutOfBoundsException, IllegalArgumentException {
     Page found = there(page);
     String old = keptText(found, version);
     if (!mayChange(found)) {
@@ -541,11 +549,12 @@ public final class Pagegarden {
 
   // ---- what a page is
 
-  public String text(int page, int version) {
+  public String text(int page, int version)
+      throws IndexOutOfBoundsException, IllegalArgumentException {
     return keptText(there(page), version);
   }
 
-  public int ofPage(int page, int what) {
+  public int ofPage(int page, int what) throws IndexOutOfBoundsException, IllegalArgumentException {
     Page found = there(page);
     if (what < 0 || what > 15) {
       throw new IllegalArgumentException();
@@ -590,7 +599,8 @@ public final class Pagegarden {
     }
   }
 
-  public int node(int page, int nth, int what) {
+  public int node(int page, int nth, int what)
+      throws IndexOutOfBoundsException, IllegalArgumentException {
     Tree tree = there(page).tree;
     checkNode(tree, nth);
     switch (what) {
@@ -609,7 +619,7 @@ public final class Pagegarden {
     }
   }
 
-  public String nodeText(int page, int nth) {
+  public String nodeText(int page, int nth) throws IndexOutOfBoundsException {
     Page found = there(page);
     checkNode(found.tree, nth);
     out.setLength(0);
@@ -623,17 +633,18 @@ public final class Pagegarden {
     }
   }
 
-  public String contents(int page) {
+  public String contents(int page) throws IndexOutOfBoundsException {
     return viewer.headsOf(there(page).tree);
   }
 
-  public String section(int page, int section) {
+  public String section(int page, int section)
+      throws IndexOutOfBoundsException, IllegalArgumentException {
     Page found = there(page);
     checkSection(found, section);
     return found.sectionText(section);
   }
 
-  public String shown(int page) {
+  public String shown(int page) throws IndexOutOfBoundsException {
     there(page);
     if (shelf.fetch(page)) {
       shownKept++;
@@ -645,7 +656,7 @@ public final class Pagegarden {
     return shelf.answerAt(shelf.count - 1);
   }
 
-  public int writer(int page, int nth) {
+  public int writer(int page, int nth) throws IndexOutOfBoundsException, IllegalArgumentException {
     Page found = there(page);
     if (nth < 0 || nth >= found.wordCount || nth >= MOST_WORDS) {
       throw new IllegalArgumentException();
@@ -653,7 +664,8 @@ public final class Pagegarden {
     return found.writers[nth];
   }
 
-  public int versionOf(int page, int version, int what) {
+  public int versionOf(int page, int version, int what)
+      throws IndexOutOfBoundsException, IllegalArgumentException {
     Page found = there(page);
     String whole = keptText(found, version);
     switch (what) {
@@ -670,7 +682,7 @@ public final class Pagegarden {
 
   // ---- links and walks
 
-  public int link(int page, int nth) {
+  public int link(int page, int nth) throws IndexOutOfBoundsException, IllegalArgumentException {
     Tree tree = there(page).tree;
     int at = tree.nthOf(LINK, nth);
     if (at < 0 || at >= MOST_NODES) {
@@ -679,7 +691,7 @@ public final class Pagegarden {
     return web.lead(tree.name[at]);
   }
 
-  public int sets(int page, int what) {
+  public int sets(int page, int what) throws IndexOutOfBoundsException, IllegalArgumentException {
     there(page);
     if (what < 0 || what > 3) {
       throw new IllegalArgumentException();
@@ -700,7 +712,7 @@ public final class Pagegarden {
     }
   }
 
-  public String walk(int from, int to) {
+  public String walk(int from, int to) throws IndexOutOfBoundsException {
     Page first = there(from);
     there(to);
     out.setLength(0);
@@ -720,7 +732,8 @@ public final class Pagegarden {
     return out.toString();
   }
 
-  public String rank(int page, int steps) {
+  public String rank(int page, int steps)
+      throws IndexOutOfBoundsException, IllegalArgumentException {
     there(page);
     if (steps < 0 || steps > 4) {
       throw new IllegalArgumentException();
@@ -735,7 +748,7 @@ public final class Pagegarden {
     return out.toString();
   }
 
-  public int byName(int nth) {
+  public int byName(int nth) throws IllegalArgumentException {
     if (nth < 0) {
       throw new IllegalArgumentException();
     }
@@ -752,7 +765,7 @@ public final class Pagegarden {
     return NONE;
   }
 
-  public int near(int page, boolean isAhead) {
+  public int near(int page, boolean isAhead) throws IndexOutOfBoundsException {
     Page found = there(page);
     int before = NONE;
     boolean isBehind = false;
@@ -773,7 +786,7 @@ public final class Pagegarden {
     return NONE;
   }
 
-  public int byPrefix(int prefix) {
+  public int byPrefix(int prefix) throws IllegalArgumentException {
     if (prefix < 0 || prefix >= PREFIXES) {
       throw new IllegalArgumentException();
     }
@@ -786,7 +799,7 @@ public final class Pagegarden {
     return set;
   }
 
-  public int find(int word) {
+  public int find(int word) throws IllegalArgumentException {
     checkWord(word);
     int set = 0;
     for (int i = 0; i < MOST_PAGES; i++) {
@@ -797,7 +810,7 @@ public final class Pagegarden {
     return set;
   }
 
-  public int kinds(int one, int other, int op) {
+  public int kinds(int one, int other, int op) throws IllegalArgumentException {
     checkWord(one);
     checkWord(other);
     if (op < 0 || op > 2) {
@@ -827,7 +840,7 @@ public final class Pagegarden {
     }
   }
 
-  public int all(int what) {
+  public int all(int what) throws IllegalArgumentException {
     if (what < 0 || what > 5) {
       throw new IllegalArgumentException();
     }
@@ -863,7 +876,8 @@ public final class Pagegarden {
 
   // ---- who watches and talks
 
-  public int watch(int user, int page, boolean isWatching) {
+  public int watch(int user, int page, boolean isWatching)
+      throws IndexOutOfBoundsException, IllegalArgumentException {
     Page found = there(page);
     checkUser(user);
     boolean wasWatching = found.seen[user] != NONE;
@@ -875,7 +889,7 @@ public final class Pagegarden {
     return wasWatching ? 1 : 0;
   }
 
-  public int see(int user, int page) {
+  public int see(int user, int page) throws IndexOutOfBoundsException, IllegalArgumentException {
     Page found = there(page);
     checkUser(user);
     if (found.seen[user] == NONE) {
@@ -886,7 +900,7 @@ public final class Pagegarden {
     return many;
   }
 
-  public int unseen(int user) {
+  public int unseen(int user) throws IllegalArgumentException {
     checkUser(user);
     int many = 0;
     for (int i = 0; i < MOST_PAGES; i++) {
@@ -897,7 +911,7 @@ public final class Pagegarden {
     return many;
   }
 
-  public int talk(int page) {
+  public int talk(int page) throws IndexOutOfBoundsException, IllegalStateException {
     Page found = there(page);
     if (found.remarkCount >= MOST_REMARKS) {
       throw new IllegalStateException();
@@ -908,7 +922,8 @@ public final class Pagegarden {
     return found.remarkCount;
   }
 
-  public String remark(int page, int nth) {
+  public String remark(int page, int nth)
+      throws IndexOutOfBoundsException, IllegalArgumentException {
     Page found = there(page);
     if (nth < 0 || nth >= found.remarkCount || nth >= MOST_REMARKS) {
       throw new IllegalArgumentException();
@@ -974,7 +989,7 @@ public final class Pagegarden {
     return NONE;
   }
 
-  public int garden(int what) {
+  public int garden(int what) throws IllegalArgumentException {
     if (what < 0 || what > 8) {
       throw new IllegalArgumentException();
     }

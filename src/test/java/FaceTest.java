@@ -4,28 +4,18 @@ import java.lang.reflect.Method;
 import java.lang.reflect.Modifier;
 import java.nio.file.Files;
 import java.nio.file.Path;
+import java.util.ArrayList;
 import java.util.Arrays;
+import java.util.HashMap;
 import java.util.HashSet;
+import java.util.List;
+import java.util.Map;
 import java.util.Set;
+import java.util.StringJoiner;
 import java.util.TreeSet;
 
 /** The face is the document's, and the source keeps to what ../shared/LANGUAGE.md leaves. */
 public final class FaceTest {
-  private static final String[] FACE = {
-    "int add(int,int,int)", "int type(int)", "int rub(int)", "String draft()",
-    "int take(int,int)", "int login(int)", "int allow(int,int,int)", "int allowPage(int,int,int)",
-    "int right(int,int)", "int plant(int)", "int write(int)", "int writeOver(int,int)",
-    "int writeSection(int,int)", "int rename(int,int)", "int split(int,int,int)",
-    "int merge(int,int)", "int uproot(int)", "int undoEdit(int,int)", "int restore(int,int)",
-    "String text(int,int)", "int ofPage(int,int)", "int node(int,int,int)",
-    "String nodeText(int,int)", "String contents(int)", "String section(int,int)",
-    "String shown(int)", "int writer(int,int)", "int versionOf(int,int,int)", "int link(int,int)",
-    "int sets(int,int)", "String walk(int,int)", "String rank(int,int)", "int byName(int)",
-    "int near(int,boolean)", "int byPrefix(int)", "int find(int)", "int kinds(int,int,int)",
-    "int all(int)", "int watch(int,int,boolean)", "int see(int,int)", "int unseen(int)",
-    "int talk(int)", "String remark(int,int)", "String exported()", "int reload()",
-    "int garden(int)", "int knock()", "boolean isSound()", "long digest()"
-  };
   // What the rules forbid, as it would stand in the code.
   private static final String[] FORBIDDEN = {
     "->", "::", "synchronized", "assert ", "finally", "try {", "catch", "import java.util.List",
@@ -35,37 +25,98 @@ public final class FaceTest {
   };
 
   public static void main(String[] args) throws Exception {
-    hasTheFace();
-    hasNothingElse();
+    List<String> face = faceOfTheDocument();
+    Check.due("the document's face has methods", 49, face::size);
+    hasTheFace(face);
+    declaresTheExceptions(face);
+    hasNothingElse(face);
     keepsToTheLanguage();
     Check.end("FaceTest");
   }
 
-  private static void hasTheFace() {
+  /** Each method as the document's face declares it, without its arguments' names. */
+  private static List<String> faceOfTheDocument() throws Exception {
+    String doc = Files.readString(Path.of("../shared/DOC.md"));
+    int begin = doc.indexOf("public final class Pagegarden {");
+    List<String> face = new ArrayList<>();
+    for (String line : doc.substring(begin, doc.indexOf("\n}", begin)).split("\n")) {
+      String told = line.trim();
+      if (told.startsWith("public ") && told.endsWith(";") && !told.contains(" Pagegarden(")) {
+        face.add(told.substring("public ".length(), told.length() - 1)
+            .replaceAll("(int|boolean) \\w+([,)])", "$1$2").replace(", ", ","));
+      }
+    }
+    return face;
+  }
+
+  private static String withoutExceptions(String method) {
+    return method.substring(0, method.indexOf(')') + 1);
+  }
+
+  private static String nameOf(String method) {
+    return method.substring(method.indexOf(' ') + 1, method.indexOf('('));
+  }
+
+  /** A method as javac took it from the class: what it answers, its arguments, its exceptions. */
+  private static String declared(Method m) {
+    StringBuilder told = new StringBuilder();
+    told.append(m.getReturnType().getSimpleName()).append(' ').append(m.getName());
+    told.append('(').append(namesOf(m.getParameterTypes())).append(')');
+    if (m.getExceptionTypes().length > 0) {
+      told.append(" throws ").append(namesOf(m.getExceptionTypes()));
+    }
+    return told.toString();
+  }
+
+  private static String namesOf(Class<?>[] types) {
+    StringJoiner names = new StringJoiner(",");
+    for (Class<?> type : types) {
+      names.add(type.getSimpleName());
+    }
+    return names.toString();
+  }
+
+  private static void hasTheFace(List<String> due) {
+    Set<String> want = new TreeSet<>();
+    for (String method : due) {
+      want.add(withoutExceptions(method));
+    }
     Set<String> face = new TreeSet<>();
     for (Method m : Pagegarden.class.getDeclaredMethods()) {
       if (Modifier.isPublic(m.getModifiers())) {
-        StringBuilder told = new StringBuilder();
-        told.append(m.getReturnType().getSimpleName()).append(' ').append(m.getName()).append('(');
-        for (Class<?> p : m.getParameterTypes()) {
-          told.append(told.charAt(told.length() - 1) == '(' ? "" : ",").append(p.getSimpleName());
-        }
-        face.add(told.append(')').toString());
+        face.add(withoutExceptions(declared(m)));
       }
     }
-    Set<String> due = new TreeSet<>(Arrays.asList(FACE));
-    Check.due("the face", due.toString(), () -> face.toString());
+    Check.due("the face", want.toString(), () -> face.toString());
   }
 
-  private static void hasNothingElse() {
+  /** Of each public method: just the exceptions of the document, in its order. */
+  private static void declaresTheExceptions(List<String> due) {
+    Map<String, String> want = new HashMap<>();
+    for (String method : due) {
+      want.put(withoutExceptions(method), method);
+    }
+    for (Method m : Pagegarden.class.getDeclaredMethods()) {
+      if (Modifier.isPublic(m.getModifiers())) {
+        String told = declared(m);
+        String wanted = want.get(withoutExceptions(told));
+        Check.due("what " + m.getName() + " declares", wanted == null ? "" : wanted, () -> told);
+      }
+    }
+    Constructor<?>[] constructors = Pagegarden.class.getDeclaredConstructors();
+    Check.due("the constructor declares no exceptions", 0,
+        () -> constructors[0].getExceptionTypes().length);
+  }
+
+  private static void hasNothingElse(List<String> face) {
     Class<?> c = Pagegarden.class;
     Check.due("public and final", Modifier.PUBLIC | Modifier.FINAL, c::getModifiers);
     Constructor<?>[] constructors = c.getDeclaredConstructors();
     Check.due("one constructor", 1, () -> constructors.length);
     Check.due("without arguments", 0, () -> constructors[0].getParameterCount());
     Set<String> names = new HashSet<>();
-    for (String method : FACE) {
-      names.add(method.substring(method.indexOf(' ') + 1, method.indexOf('(')));
+    for (String method : face) {
+      names.add(nameOf(method));
     }
     for (Method m : c.getDeclaredMethods()) {
       boolean isOfFace = names.contains(m.getName());
