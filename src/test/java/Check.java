@@ -1,5 +1,8 @@
 /** Compares answers with those that are due, and ends a test. */
 final class Check {
+  // How many signs of a long text are shown on each side of where it is another one.
+  private static final int SHOWN = 150;
+
   private static int wrong = 0;
   private static int many = 0;
 
@@ -7,6 +10,16 @@ final class Check {
 
   interface Call {
     Object answer();
+  }
+
+  /** The calls that make a garden what it is; the same ones make its twin. */
+  interface Past {
+    void of(Pagegarden garden);
+  }
+
+  /** A call of a garden. */
+  interface Asked {
+    Object of(Pagegarden garden);
   }
 
   /** What a call answers, or "throws." and the exception's name. */
@@ -23,8 +36,18 @@ final class Check {
     many++;
     if (!want.equals(got)) {
       wrong++;
-      System.out.println(what + " answered " + quoted(got) + ", due is " + quoted(want));
+      int from = Math.max(0, firstDifference(got.toString(), want.toString()) - SHOWN);
+      System.out.println(
+          what + " answered " + quoted(got, from) + ", due is " + quoted(want, from));
     }
+  }
+
+  private static int firstDifference(String one, String other) {
+    int at = 0;
+    while (at < one.length() && at < other.length() && one.charAt(at) == other.charAt(at)) {
+      at++;
+    }
+    return at;
   }
 
   /** The call throws the exception, and the garden is afterwards as it was before. */
@@ -57,6 +80,48 @@ final class Check {
     due(what + " changed nothing else", all, () -> Gardens.told(garden));
   }
 
+  static Pagegarden made(Past past) {
+    Pagegarden garden = new Pagegarden();
+    past.of(garden);
+    return garden;
+  }
+
+  /** On a garden with that past the call answers that. */
+  static void due(String what, Object want, Past past, Asked call) {
+    Pagegarden garden = made(past);
+    due(what, want, () -> call.of(garden));
+  }
+
+  /** The call throws the exception, and the garden is as its twin, of which nothing was asked. */
+  static void thrown(String what, String exception, Past past, Asked call) {
+    Pagegarden garden = made(past);
+    due(what, "throws." + exception, () -> call.of(garden));
+    Pagegarden twin = made(past);
+    due(what + ": the checksum stays", twin.digest(), garden::digest);
+    due(what + ": all stays", Gardens.everything(twin), () -> Gardens.everything(garden));
+  }
+
+  static void noIndex(String what, Past past, Asked call) {
+    thrown(what, "IndexOutOfBoundsException", past, call);
+  }
+
+  static void noArgument(String what, Past past, Asked call) {
+    thrown(what, "IllegalArgumentException", past, call);
+  }
+
+  static void noState(String what, Past past, Asked call) {
+    thrown(what, "IllegalStateException", past, call);
+  }
+
+  /** The call tells REFUSED: that is counted, and all else is as in the garden's twin. */
+  static void refused(String what, Past past, Asked call) {
+    Pagegarden garden = made(past);
+    due(what, -9, () -> call.of(garden));
+    Pagegarden twin = made(past);
+    due(what + ": it is counted", twin.garden(2) + 1, () -> garden.garden(2));
+    due(what + ": all else stays", Gardens.everything(twin), () -> Gardens.everything(garden));
+  }
+
   static void end(String test) {
     System.out.println(test + ": " + (many - wrong) + " of " + many + " answers as due");
     if (wrong > 0) {
@@ -64,7 +129,13 @@ final class Check {
     }
   }
 
-  private static String quoted(Object told) {
-    return told instanceof String ? '"' + told.toString().replace("\n", "\\n") + '"' : "" + told;
+  private static String quoted(Object told, int from) {
+    if (!(told instanceof String)) {
+      return "" + told;
+    }
+    String text = told.toString();
+    String piece = text.substring(Math.min(from, text.length()));
+    String shown = piece.length() > 2 * SHOWN ? piece.substring(0, 2 * SHOWN) + ".." : piece;
+    return (from > 0 ? ".." : "") + '"' + shown.replace("\n", "\\n") + '"';
   }
 }

@@ -101,4 +101,60 @@ final class Gardens {
     }
     return told.toString();
   }
+
+  /**
+   * All that a garden holds, but for how often one was refused: also what only a change tells
+   * (the rights, who has seen what, and which page is kept least lately), so that the garden is
+   * another one then. No page may have one of the names 35 to 38.
+   */
+  static String everything(Pagegarden garden) {
+    StringBuilder told = new StringBuilder(garden.draft());
+    for (int what = 0; what <= 8; what++) {
+      told.append(what == 2 ? "" : " " + garden.garden(what));
+    }
+    int there = garden.all(0);
+    for (int page = 0; page < 12; page++) {
+      if ((there >> page & 1) != 0) {
+        told.append('\n').append(page).append(':').append(everythingOf(garden, page));
+      }
+    }
+    for (int user = 0; user < 5; user++) {
+      for (int prefix = 0; prefix < 4; prefix++) {
+        told.append(' ').append(garden.allow(user, prefix, -1));
+      }
+    }
+    // Whatever is shown now takes the place of that which was shown least lately.
+    for (int name = 35; name < 39 && Integer.bitCount(garden.all(0)) < 12; name++) {
+      garden.plant(name);
+    }
+    for (int page = 0; page < 12; page++) {
+      if (((garden.all(0) & ~garden.all(5)) >> page & 1) != 0) {
+        told.append('\n').append(garden.all(5)).append(garden.shown(page));
+      }
+    }
+    return told.append(garden.all(5)).toString();
+  }
+
+  private static String everythingOf(Pagegarden garden, int page) {
+    StringBuilder told = new StringBuilder();
+    for (int what : new int[] {0, 7, 9, 10, 14, 15}) {
+      told.append(garden.ofPage(page, what)).append(' ');
+    }
+    told.append(garden.sets(page, 0)).append(' ').append(garden.sets(page, 1));
+    int newest = garden.ofPage(page, 3);
+    for (int version = garden.ofPage(page, 4); version <= newest; version++) {
+      told.append("\n ").append(version).append(' ').append(garden.versionOf(page, version, 0));
+      told.append(garden.text(page, version));
+    }
+    for (int nth = 0; nth < garden.ofPage(page, 9); nth++) {
+      told.append(garden.writer(page, nth));
+    }
+    for (int nth = 0; nth < garden.ofPage(page, 15); nth++) {
+      told.append('\n').append(garden.remark(page, nth));
+    }
+    for (int user = 0; user < 5; user++) {
+      told.append(' ').append(garden.allowPage(user, page, -1)).append(garden.see(user, page));
+    }
+    return told.toString();
+  }
 }

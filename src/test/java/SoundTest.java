@@ -13,7 +13,8 @@ public final class SoundTest {
     breaks("a node's end", false, (g, page) -> Array.setInt(get(get(page, "tree"), "ends"), 4, 2));
     breaks("the page's begin", false,
         (g, page) -> Array.setInt(get(get(page, "tree"), "starts"), 0, 1));
-    breaks("the page's end", false, (g, page) -> Array.setInt(get(get(page, "tree"), "ends"), 0, 1));
+    breaks("the page's end", false,
+        (g, page) -> Array.setInt(get(get(page, "tree"), "ends"), 0, 1));
     breaks("a level", false, (g, page) -> Array.setInt(get(get(page, "tree"), "mark"), 2, 2));
     breaks("the text", false, (g, page) -> set(page, "whole", "=ab[ba]\n*[ba]"));
     breaks("the newest version", false,
