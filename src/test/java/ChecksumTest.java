@@ -22,6 +22,8 @@ public final class ChecksumTest {
     is("an empty page", g -> g.plant(39));
     is("a page of all signs", g -> Gardens.plant(g, 0, Gardens.SIGNS));
     is("a page of 400 signs", ChecksumTest::longPage);
+    is("the most nodes", ChecksumTest::mostNodes);
+    is("the most words", ChecksumTest::mostWords);
     is("a gap", ChecksumTest::gap);
     is("twelve pages", ChecksumTest::twelvePages);
     is("many versions", ChecksumTest::manyVersions);
@@ -47,6 +49,18 @@ public final class ChecksumTest {
   private static void longPage(Pagegarden g) {
     g.plant(5);
     Gardens.makeLong(g, 0, "=ab\n".repeat(50), "|(ba) #cad".repeat(19) + "[a/ab] '");
+  }
+
+  private static void mostNodes(Pagegarden g) {
+    g.plant(0);
+    Gardens.makeLong(g, 0, "\n".repeat(200), "\n".repeat(197) + "=");
+  }
+
+  private static void mostWords(Pagegarden g) {
+    Gardens.plant(g, 0, "a ".repeat(99) + "a");
+    Gardens.plant(g, 1, "b ".repeat(99) + "b");
+    g.login(4);
+    g.merge(0, 1);
   }
 
   private static void gap(Pagegarden g) {

@@ -92,6 +92,14 @@ public final class DraftTest {
     g.add(0, 0, -1);
     Check.due("no blank behind a line end",
         "ba cad#ba ab[ba]ab\n=ab\n*ab\n>ab\n|ab|ab\nab", g::draft);
+    String[] one = {"a ba", "a\n", "a\n==cad", "a\n**cad", "a\n>cad", "a\n|ba|cad", "a'"};
+    for (int i = 0; i < one.length; i++) {
+      int kind = i;
+      Check.due("kind " + i + " behind one letter", one[i], past -> past.type(0), past -> {
+        past.add(kind, 1, 2);
+        return past.draft();
+      });
+    }
     Pagegarden blank = new Pagegarden();
     blank.type(11);
     blank.add(0, 0, -1);

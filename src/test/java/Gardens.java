@@ -1,3 +1,6 @@
+import java.util.HashSet;
+import java.util.Set;
+
 /** Makes gardens for the tests, and tells what one is like. */
 final class Gardens {
   static final String SIGNS = "abcdefghij/ \n=*>|'_`[]{}()#@012";
@@ -105,7 +108,7 @@ final class Gardens {
   /**
    * All that a garden holds, but for how often one was refused: also what only a change tells
    * (the rights, who has seen what, and which page is kept least lately), so that the garden is
-   * another one then. No page may have one of the names 35 to 38.
+   * another one then.
    */
   static String everything(Pagegarden garden) {
     StringBuilder told = new StringBuilder(garden.draft());
@@ -113,8 +116,10 @@ final class Gardens {
       told.append(what == 2 ? "" : " " + garden.garden(what));
     }
     int there = garden.all(0);
+    Set<Integer> taken = new HashSet<>();
     for (int page = 0; page < 12; page++) {
       if ((there >> page & 1) != 0) {
+        taken.add(garden.ofPage(page, 0));
         told.append('\n').append(page).append(':').append(everythingOf(garden, page));
       }
     }
@@ -124,8 +129,10 @@ final class Gardens {
       }
     }
     // Whatever is shown now takes the place of that which was shown least lately.
-    for (int name = 35; name < 39 && Integer.bitCount(garden.all(0)) < 12; name++) {
-      garden.plant(name);
+    for (int name = 30; name < 40 && Integer.bitCount(garden.all(0)) < 12; name++) {
+      if (!taken.contains(name)) {
+        garden.plant(name);
+      }
     }
     for (int page = 0; page < 12; page++) {
       if (((garden.all(0) & ~garden.all(5)) >> page & 1) != 0) {

@@ -1,3 +1,5 @@
+import java.util.Arrays;
+
 /** Promises 30 to 39: links, walks, ranks, and sets of pages. */
 public final class LinksTest {
   public static void main(String[] args) {
@@ -7,6 +9,11 @@ public final class LinksTest {
     walks();
     ranks();
     goesByNames();
+    goesByAllNames();
+    leadsByAllNames();
+    leadsByOtherTexts();
+    ranksWithoutPagesThatWent();
+    asksTheLastPage();
     goesByPrefixes();
     finds();
     findsKinds();
@@ -228,6 +235,108 @@ public final class LinksTest {
     Check.noIndex("near page -1", g, () -> g.near(-1, false));
   }
 
+  /** All names, twelve at a time, the greatest one first. */
+  private static void goesByAllNames() {
+    String[] all = new String[40];
+    for (int i = 0; i < 40; i++) {
+      all[i] = Gardens.name(i);
+    }
+    String[] rising = all.clone();
+    Arrays.sort(rising);
+    for (int from = 0; from + 12 <= 40; from++) {
+      Pagegarden g = new Pagegarden();
+      for (int i = 11; i >= 0; i--) {
+        g.plant(Arrays.asList(all).indexOf(rising[from + i]));
+      }
+      for (int i = 0; i < 12; i++) {
+        int nth = i;
+        Check.due("byName(" + i + ") from " + rising[from], 11 - i, () -> g.byName(nth));
+        Check.due("the one behind it", 10 - i, () -> g.near(11 - nth, false));
+      }
+    }
+  }
+
+  private static void leadsByAllNames() {
+    for (int name = 0; name < 40; name++) {
+      int own = name;
+      String mark = Gardens.name(name);
+      int other = (name + 1) % 40;
+      for (String text : new String[] {"[" + mark + "]", "@" + mark}) {
+        Pagegarden g = new Pagegarden();
+        Gardens.plant(g, other, text);
+        Check.due(text + " leads to nobody", 0, () -> g.sets(0, 0));
+        Gardens.plant(g, own, "");
+        Check.due(text + " leads to the other one", 2, () -> g.sets(0, 0));
+        Check.due("which is told there", 1, () -> g.sets(1, 1));
+        Check.due("a walk", Gardens.name(other) + ">" + mark, () -> g.walk(0, 1));
+        Check.due("sound", true, g::isSound);
+      }
+      for (int prefix = 0; prefix < 4; prefix++) {
+        int asked = prefix;
+        Check.due(mark + " begins with prefix " + prefix,
+            mark.startsWith(Gardens.PREFIXES[prefix]) ? 1 : 0, g -> g.plant(own),
+            g -> g.byPrefix(asked));
+        boolean isTold = mark.startsWith(Gardens.PREFIXES[prefix]);
+        Check.due("the right at " + mark + " by prefix " + prefix, isTold ? 1 : 2, g -> {
+          g.plant(own);
+          g.allow(2, asked, 1);
+        }, g -> g.right(2, 0));
+      }
+    }
+  }
+
+  /** A naming text that is no name leads to nobody. */
+  private static void leadsByOtherTexts() {
+    for (String text : new String[] {"/", "a", "a/", "ab/", "abab", "/ab", "b/a/ab", "a/a/ab"}) {
+      Pagegarden g = new Pagegarden();
+      Gardens.plant(g, 0, "@" + text + "\n[" + text + "]");
+      Gardens.plant(g, 1, "[ab]");
+      Check.due("@" + text + " is a redirect", 1, () -> g.all(3));
+      Check.due("it leads to nobody", 1, () -> g.all(4));
+      Check.due("nor does what leads to it", -1, () -> g.link(1, 0));
+      Check.due("nor does the link", -1, () -> g.link(0, 0));
+      Check.due("it is a dead end", 3, () -> g.all(2));
+    }
+  }
+
+  private static void ranksWithoutPagesThatWent() {
+    Pagegarden g = new Pagegarden();
+    for (int i = 0; i < 4; i++) {
+      Gardens.plant(g, i, i == 3 ? "[cad]" : "");
+    }
+    g.uproot(0);
+    g.uproot(1);
+    rank(g, 2, "1/2", "3/4", "5/8");
+    rank(g, 3, "1/2", "1/4", "3/8");
+    Check.due("sound", true, g::isSound);
+    g.uproot(3);
+    rank(g, 2, "1/1", "1/1", "1/1", "1/1", "1/1");
+  }
+
+  /** The last page of twelve is asked as all others are. */
+  private static void asksTheLastPage() {
+    Pagegarden g = new Pagegarden();
+    for (int i = 0; i < 12; i++) {
+      Gardens.plant(g, i, i == 11 ? "#ab cad[ab]" : "");
+    }
+    Check.due("find", 2048, () -> g.find(2));
+    Check.due("kinds", 2048, () -> g.kinds(0, 0, 1));
+    Check.due("dead ends", 2047, () -> g.all(2));
+    Check.due("here", 2048, () -> g.sets(0, 1));
+    Check.due("orphans", 4094, () -> g.all(1));
+    Check.due("the last prefix", 4095 - 1023, () -> g.byPrefix(1));
+    g.watch(4, 11, true);
+    Gardens.write(g, 11, "[ab][ab]");
+    Check.due("unseen", 1, () -> g.unseen(4));
+    Check.due("versions", 13, () -> g.garden(7));
+    Check.due("what is named can't be a new name", -9, () -> {
+      Gardens.write(g, 11, "[ab][ab][a/b/jig]");
+      return g.rename(0, 39);
+    });
+    Check.due("rename", 2, () -> g.rename(0, 38));
+    Check.due("its text", "[a/b/ice][a/b/ice][a/b/jig]", () -> Gardens.text(g, 11));
+  }
+
   private static void goesByPrefixes() {
     Pagegarden g = new Pagegarden();
     for (int name = 0; name < 40; name += 5) {
@@ -253,6 +362,22 @@ public final class LinksTest {
       int word = i;
       Check.due("find(" + i + ")", due[i], () -> g.find(word));
     }
+    // The first word of all, the last one of as many as can be, and none that stood elsewhere.
+    Check.due("the only word", 1, past -> Gardens.plant(past, 0, "cad"), past -> past.find(2));
+    Check.due("the 200th word", 1, past -> {
+      Gardens.plant(past, 0, "=a" + " a".repeat(98) + " b");
+      Gardens.draft(past, "a " + "a ".repeat(98) + "a");
+      past.writeSection(0, 0);
+      Check.due("words", 200, () -> past.ofPage(0, 9));
+      Gardens.write(past, 0, Gardens.text(past, 0).substring(0, 200) + "a".repeat(99));
+      Gardens.plant(past, 1, "a ".repeat(99) + "a");
+      Gardens.plant(past, 2, "a ".repeat(98) + "a ab");
+      past.merge(1, 2);
+    }, past -> past.find(0) >> 1);
+    Check.due("a word's place is not a word", 1, past -> {
+      Gardens.plant(past, 0, "c ab");
+      Gardens.plant(past, 1, "cdab");
+    }, past -> past.find(0));
     Check.noArgument("find(10)", g, () -> g.find(10));
     Check.noArgument("find(-1)", g, () -> g.find(-1));
   }
@@ -270,6 +395,10 @@ public final class LinksTest {
     Check.due("the same twice", 3, () -> g.kinds(0, 0, 0));
     Check.due("not the same", 0, () -> g.kinds(0, 0, 2));
     Check.due("none", 0, () -> g.kinds(8, 9, 1));
+    Check.due("none that stood there before", 0, past -> {
+      Gardens.plant(past, 0, "a#ab");
+      Gardens.write(past, 0, "a ab");
+    }, past -> past.kinds(0, 0, 1));
     int[][] wrong = {{-1, 0, 0}, {10, 0, 0}, {0, -1, 0}, {0, 10, 0}, {0, 0, -1}, {0, 0, 3}};
     for (int[] w : wrong) {
       Check.noArgument("kinds wrong", g, () -> g.kinds(w[0], w[1], w[2]));

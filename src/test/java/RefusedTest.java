@@ -9,6 +9,7 @@ public final class RefusedTest {
     needsTheNewNamesRight();
     mergesNeedBothRights();
     writesOneSignTooMany();
+    renamesUpTo400();
     quarrels();
     renamesToWhatIsNamed();
     splitsWithoutLines();
@@ -140,7 +141,7 @@ public final class RefusedTest {
           g.allow(0, prefix, r);
         };
         for (int i = 0; i < 4; i++) {
-          int name = names[i] - i / 3 * 2;
+          int name = names[i];
           // "a/b/" begins with "", "a/" and itself, but not with "b/".
           boolean isOther = prefix != 0 && prefix != i && !(prefix == 1 && i == 3);
           boolean may = r == 2 || isOther;
@@ -238,6 +239,22 @@ public final class RefusedTest {
       Gardens.write(g, 0, "a\nb\nc");
       Gardens.write(g, 0, "a\nb\n" + "c".repeat(197) + more);
     }, g -> g.undoEdit(0, 1));
+  }
+
+  /** Each name is as long as it is: so is what is left for it. */
+  private static void renamesUpTo400() {
+    // Names 0 and 1 are as short as can be: with them a text gets no longer.
+    for (int name = 2; name < 40; name++) {
+      int fresh = name;
+      String mark = Gardens.name(name);
+      signs("rename to " + mark, 1, (g, more) -> {
+        Gardens.plant(g, fresh == 10 ? 20 : 10, "=" + "a".repeat(190) + "[ba]");
+        Gardens.plant(g, 1, "");
+        // A head of 193 signs and the name, and a line end ahead of it.
+        Gardens.draft(g, "b".repeat(400 - 193 - mark.length() - 1) + more);
+        g.writeSection(0, 0);
+      }, g -> g.rename(1, fresh));
+    }
   }
 
   /** Page 0 has 400 signs then, and with one more it would have 401. */

@@ -11,10 +11,15 @@ public final class ShownTest {
     showsArguments();
     showsPartsInParts();
     showsTwelveParts();
+    showsTheLastPage();
+    showsArgumentsInTheDeepestPart();
     keepsFour();
     keepsTillTextsChange();
     keepsTillNamesLeadElsewhere();
     keepsTillRedirectsLeadElsewhere();
+    keepsTillAnyNameLeadsElsewhere();
+    keepsTillAnyRedirectLeadsElsewhere();
+    dropsAnyOfFour();
     wrongInputs();
     Check.end("ShownTest");
   }
@@ -152,6 +157,29 @@ public final class ShownTest {
         () -> g.shown(0));
   }
 
+  /** The first page and the last one, each as it is shown and put in. */
+  private static void showsTheLastPage() {
+    Pagegarden g = new Pagegarden();
+    for (int i = 0; i < 12; i++) {
+      Gardens.plant(g, i, "=" + Gardens.WORDS[i % 10] + "[ab]{a/ba|c}{0}");
+    }
+    Check.due("the first page", "1 ababbaab!c\n", () -> g.shown(0));
+    Check.due("the last page", "1 baab!\n", () -> g.shown(11));
+    Gardens.write(g, 11, "{0}a{ab}");
+    Check.due("the last page in the first one", "1 ababca!\n", () -> g.shown(0));
+    Check.due("the first page in the last one", "aabab!\n", () -> g.shown(11));
+    kept(g, 1 + 2048);
+  }
+
+  private static void showsArgumentsInTheDeepestPart() {
+    Pagegarden g = new Pagegarden();
+    Gardens.plant(g, 0, "{ba|c}{0|d}");
+    Gardens.plant(g, 1, "{0}{cad|e}");
+    Gardens.plant(g, 2, "{0}{deaf|f|g}{0}");
+    Gardens.plant(g, 3, "{0}{1}{2|h}{egg|i}{0}");
+    Check.due("each part's own arguments", "cefgh?fed\n", () -> g.shown(0));
+  }
+
   private static void kept(Pagegarden g, int due) {
     Check.due("kept pages", due, () -> g.all(5));
   }
@@ -279,6 +307,92 @@ public final class ShownTest {
     Check.due("its own redirect is not asked", "@deaf\n", () -> g.shown(1));
     Gardens.write(g, 3, "c");
     kept(g, 2);
+  }
+
+  /** Whatever name was asked: a page that gets it changes what was shown. */
+  private static void keepsTillAnyNameLeadsElsewhere() {
+    for (int name = 0; name < 40; name++) {
+      int asked = name;
+      String mark = Gardens.name(name);
+      int own = (name + 1) % 40;
+      int other = (name + 2) % 40;
+      for (String text : new String[] {"[" + mark + "]", "{" + mark + "|a}"}) {
+        Check.Past past = g -> {
+          Gardens.plant(g, own, text);
+          g.shown(0);
+          Gardens.plant(g, other, "");
+        };
+        Check.due("another name than " + mark + " is planted", 1, past, g -> g.all(5));
+        Check.due(mark + " is planted, asked by " + text, 0, past, g -> {
+          g.plant(asked);
+          return g.all(5);
+        });
+        Check.due(mark + " is uprooted, asked by " + text, 0, g -> {
+          past.of(g);
+          g.plant(asked);
+          g.shown(0);
+          g.shown(1);
+          g.uproot(1);
+          Check.due("it leads there still", 1, () -> g.all(5));
+          g.uproot(2);
+        }, g -> g.all(5));
+      }
+    }
+  }
+
+  /** What a redirect on the way asks by itself: of the first page, of the last one. */
+  private static void keepsTillAnyRedirectLeadsElsewhere() {
+    for (int on = 0; on < 12; on++) {
+      int number = on;
+      Check.Past past = g -> {
+        for (int i = 0; i < 12; i++) {
+          boolean isOn = i == number;
+          Gardens.plant(g, i, isOn ? "@" + Gardens.name((number + 1) % 12) : "");
+        }
+        Gardens.write(g, (number + 2) % 12, "[" + Gardens.name(number) + "]");
+        g.shown((number + 2) % 12);
+        g.shown((number + 3) % 12);
+      };
+      int reader = 1 << (number + 2) % 12;
+      int other = 1 << (number + 3) % 12;
+      Check.due("both are kept", reader + other, past, g -> g.all(5));
+      Check.due("the end of redirect " + on + " is renamed", other, past, g -> {
+        g.rename((number + 1) % 12, 39);
+        return g.all(5);
+      });
+      Check.due("a page that was not asked is renamed", reader + other, past, g -> {
+        g.rename((number + 4) % 12, 39);
+        return g.all(5);
+      });
+    }
+  }
+
+  /** All four are kept no more, or just those that asked, whichever they are. */
+  private static void dropsAnyOfFour() {
+    for (int set = 0; set < 16; set++) {
+      int asking = set;
+      Check.Past past = g -> {
+        for (int i = 0; i < 4; i++) {
+          Gardens.plant(g, i, (asking >> i & 1) != 0 ? "[egg]" : "[fig]");
+          g.shown(i);
+        }
+      };
+      Check.due("four are kept", 15, past, g -> g.all(5));
+      Check.due("those that asked are not, of " + set, 15 - set, past, g -> {
+        g.plant(4);
+        return g.all(5);
+      });
+      Check.due("those in which it is are not, of " + set, 15 - set, g -> {
+        Gardens.plant(g, 4, "a");
+        for (int i = 0; i < 4; i++) {
+          Gardens.plant(g, i, (asking >> i & 1) != 0 ? "{egg}" : "[egg]");
+          g.shown(i + 1);
+        }
+      }, g -> {
+        Gardens.write(g, 0, "b");
+        return g.all(5) >> 1;
+      });
+    }
   }
 
   private static void wrongInputs() {

@@ -24,12 +24,19 @@ public final class SoundTest {
     breaks("how many writers", false, (g, page) -> set(page, "wordCount", 2));
     breaks("what is kept", false,
         (g, page) -> set(Array.get(get(get(g, "shelf"), "rows"), 0), "answer", "ab"));
+    breaks("the first sign of what is kept", false, (g, page) ->
+        set(Array.get(get(get(g, "shelf"), "rows"), 0), "answer", "2 abba\n- ba\n"));
+    breaks("what is kept, but nothing of it", true, (g, page) ->
+        set(Array.get(get(get(g, "shelf"), "rows"), 0), "answer", "1 abba\n- ba\n"));
+    breaks("who is at the first page", false,
+        (g, page) -> Array.setInt(get(get(g, "web"), "heres"), 0, 0));
     breaks("who is here", false, (g, page) -> Array.setInt(get(get(g, "web"), "heres"), 1, 0));
     breaks("where a page leads", false, (g, page) -> Array.setInt(get(get(g, "web"), "tos"), 0, 8));
     breaks("who has a name", false, (g, page) -> {
       Array.setInt(get(get(g, "web"), "owners"), 0, 1);
       Array.setInt(get(get(g, "web"), "owners"), 1, -1);
     });
+    tellsInTheChecksum();
     Check.end("SoundTest");
   }
 
@@ -46,6 +53,21 @@ public final class SoundTest {
       throw new IllegalStateException(e);
     }
     Check.due("sound with another one of: " + what, due, g::isSound);
+  }
+
+  /** The last number of the checksum is 0 then, and no other one is another one. */
+  private static void tellsInTheChecksum() {
+    Pagegarden g = new Pagegarden();
+    Gardens.plant(g, 0, "ab");
+    long sound = g.digest();
+    try {
+      Object page = Array.get(get(g, "pages"), 0);
+      set(Array.get(get(page, "versions"), 0), "said", "ba");
+    } catch (Exception e) {
+      throw new IllegalStateException(e);
+    }
+    Check.due("not sound", false, g::isSound);
+    Check.due("the checksum of what is not sound", sound - 1, g::digest);
   }
 
   private static Object get(Object of, String field) throws Exception {

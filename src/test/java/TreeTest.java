@@ -124,6 +124,10 @@ public final class TreeTest {
     reads("@ab0", "0(8(10<@ab0>))");
     reads(" @ab", "0(8(10< @ab>))");
     reads("\n@ab", "0(7<\n> 8(10<@ab>))");
+    reads("@0", "0(8(10<@0>))");
+    reads("@0ab", "0(8(10<@0ab>))");
+    reads("@@ab", "0(8(10<@@ab>))");
+    reads("@ ab", "0(8(10<@ ab>))");
     reads("@ab\n=a\n*b", "0(6<@ab\n> 1(2(10<a>) 3(10<b>)))");
   }
 
@@ -274,6 +278,20 @@ public final class TreeTest {
     Check.due("the tree",
         "0(8(15<{ba}>) 8(14<[ba]>) 7<\n> 8(13<`a`> 17<(b)> 18<#c>) 3(10<a>))",
         () -> Gardens.tree(g, 0));
+    // What stood behind the last node, or just there, is read no more.
+    Gardens.write(g, 0, "a[ab]{ba}#cad\n=b");
+    Gardens.write(g, 0, "a");
+    Check.due("no link", "throws.IllegalArgumentException", () -> g.link(0, 0));
+    Check.due("no links, parts, heads", "000",
+        () -> "" + g.ofPage(0, 5) + g.ofPage(0, 6) + g.ofPage(0, 8));
+    Check.due("one line is shown", "a\n", () -> g.shown(0));
+    Check.due("no contents", "", () -> g.contents(0));
+    Gardens.write(g, 0, "a\nb\nc");
+    Gardens.write(g, 0, "a");
+    Check.due("one line is shown then, too", "a\n", () -> g.shown(0));
+    Gardens.write(g, 0, "a{ba}");
+    Gardens.write(g, 0, "b");
+    Check.due("no part", 0, () -> g.ofPage(0, 6));
     Gardens.write(g, 0, "*a\n\n");
     Check.due("the tree", "0(3(10<a>) 7<\n> 7<>)", () -> Gardens.tree(g, 0));
     Gardens.write(g, 0, "");
@@ -293,6 +311,13 @@ public final class TreeTest {
     Check.due("sound", true, g::isSound);
     full(g, "=\n".repeat(99) + "='", "'".repeat(198), 402);
     full(g, "'".repeat(200), "'".repeat(198), 402);
+    // The last node of all is a head.
+    full(g, "\n".repeat(200), "\n".repeat(197) + "=", 402);
+    Check.due("the last node", 2, () -> g.node(0, 401, 0));
+    Check.due("its path", "1 \n2 \n", () -> g.contents(0));
+    Check.due("heads", 2, () -> g.ofPage(0, 8));
+    Check.due("its section", "=", () -> g.section(0, 2));
+    Check.due("shown", "\n".repeat(201) + "1 \n" + "\n".repeat(196) + "2 \n", () -> g.shown(0));
     full(g, "|".repeat(200), "'".repeat(198), 402);
     full(g, "a ".repeat(100), " a".repeat(99), 6);
     Check.due("words", 199, () -> g.ofPage(0, 9));

@@ -4,6 +4,7 @@ import java.util.Random;
 public final class VersionsTest {
   public static void main(String[] args) {
     tellsWriters();
+    comparesWords();
     countsNoWordTwice();
     keepsTwenty();
     tellsVersions();
@@ -49,6 +50,25 @@ public final class VersionsTest {
     g.login(3);
     g.restore(0, 0);
     Check.due("restored words are the restorer's", 3, () -> g.writer(0, 0));
+  }
+
+  /** A word is the same if all its letters are. */
+  private static void comparesWords() {
+    String[] others = {"ab", "bbc", "acc", "aba", "abcd", "bc", "c", "babc", "a b c"};
+    for (String other : others) {
+      for (String text : new String[] {"d abc d", "abc", "abc d", "d abc"}) {
+        Check.due("abc and " + other + " in " + text, 1, g -> {
+          Gardens.plant(g, 0, text);
+          g.login(1);
+          Gardens.write(g, 0, text.replace("abc", other));
+        }, g -> g.writer(0, text.startsWith("d") ? 1 : 0));
+      }
+    }
+    Check.due("the same words in other lines and marks", "000", g -> {
+      Gardens.plant(g, 0, "abc d abc");
+      g.login(1);
+      Gardens.write(g, 0, "=abc\n[d]\n(abc)");
+    }, g -> "" + g.writer(0, 0) + g.writer(0, 1) + g.writer(0, 2));
   }
 
   private static void countsNoWordTwice() {
