@@ -119,6 +119,11 @@ final class Check {
     due(what, -9, () -> call.of(garden));
     Pagegarden twin = made(past);
     due(what + ": it is counted", twin.garden(2) + 1, () -> garden.garden(2));
+    if (twin.garden(0) > 0) {
+      // User 1, who watches nothing in any past, is refused there: so that the numbers are equal.
+      due(what + ": the twin is refused, too", -9, () -> twin.see(1, twin.byName(0)));
+      due(what + ": the checksum is the twin's", twin.digest(), garden::digest);
+    }
     due(what + ": all else stays", Gardens.everything(twin), () -> Gardens.everything(garden));
   }
 

@@ -9,7 +9,26 @@ public final class ChecksumTest {
   private static boolean hasBeenNegative;
   private static boolean hasBeenPositive;
 
+  // So many questions of one garden, and the rest of another one with the same past.
+  private static final int MOST_ASKED = 100;
+
+  private final Check.Past past;
+  private Pagegarden asked;
+  private int left;
   private BigInteger d = BigInteger.valueOf(5803);
+
+  private ChecksumTest(Check.Past past) {
+    this.past = past;
+  }
+
+  private Pagegarden g() {
+    if (left == 0) {
+      asked = Check.made(past);
+      left = MOST_ASKED;
+    }
+    left--;
+    return asked;
+  }
 
   public static void main(String[] args) {
     is("nothing", g -> { });
@@ -110,43 +129,46 @@ public final class ChecksumTest {
   }
 
   private static void is(String what, Check.Past past) {
-    Pagegarden garden = Check.made(past);
-    long due = new ChecksumTest().of(garden, Check.made(past)).longValue();
+    long due = new ChecksumTest(past).whole().longValue();
     hasBeenNegative |= due < 0;
     hasBeenPositive |= due > 0;
-    Check.due("checksum with " + what, due, garden::digest);
+    Check.due("checksum with " + what, due, past, g -> g.digest());
   }
 
-  /** The same, before it is cut to 64 bits; what is shown is asked of a twin. */
-  private BigInteger of(Pagegarden g, Pagegarden twin) {
+  /** The same, before it is cut to 64 bits. */
+  private BigInteger whole() {
     for (int what = 0; what <= 8; what++) {
-      add(g.garden(what));
+      add(g().garden(what));
     }
     for (int what = 0; what <= 5; what++) {
-      add(g.all(what));
+      add(g().all(what));
     }
-    for (int nth = 0; g.byName(nth) != -1; nth++) {
-      addPage(g, g.byName(nth));
-      addText(twin.shown(g.byName(nth)));
+    for (int nth = 0; nth < g().garden(0); nth++) {
+      int page = g().byName(nth);
+      addPage(page);
+      // What is shown is kept and counted: of that garden nothing else is asked.
+      addText(Check.made(past).shown(page));
     }
-    add(g.isSound() ? 1 : 0);
+    add(g().isSound() ? 1 : 0);
     return d;
   }
 
-  private void addPage(Pagegarden g, int page) {
+  private void addPage(int page) {
     add(page);
     for (int what = 0; what <= 15; what++) {
-      add(g.ofPage(page, what));
+      add(g().ofPage(page, what));
     }
-    addText(g.text(page, g.ofPage(page, 3)));
-    for (int nth = 0; nth < g.ofPage(page, 7); nth++) {
-      add(g.node(page, nth, 0));
+    addText(g().text(page, g().ofPage(page, 3)));
+    int nodes = g().ofPage(page, 7);
+    for (int nth = 0; nth < nodes; nth++) {
+      add(g().node(page, nth, 0));
     }
     for (int what = 0; what <= 3; what++) {
-      add(g.sets(page, what));
+      add(g().sets(page, what));
     }
-    for (int nth = 0; nth < g.ofPage(page, 9); nth++) {
-      add(g.writer(page, nth));
+    int words = g().ofPage(page, 9);
+    for (int nth = 0; nth < words; nth++) {
+      add(g().writer(page, nth));
     }
   }
 
@@ -163,12 +185,11 @@ public final class ChecksumTest {
 
   /** 5803 * 31^16 is beyond 64 bits already. */
   private static void wrapsAround() {
-    Pagegarden g = new Pagegarden();
-    BigInteger whole = new ChecksumTest().of(g, g);
+    BigInteger whole = new ChecksumTest(g -> { }).whole();
     Check.due("it has more than 64 bits", true, () -> whole.bitLength() > 64);
     Check.due("it is that", BigInteger.valueOf(5803).multiply(FACTOR.pow(16)).add(BigInteger.ONE),
         () -> whole);
-    Check.due("it wraps around", whole.longValue(), g::digest);
+    Check.due("it wraps around", whole.longValue(), g -> { }, g -> g.digest());
   }
 
   private static void changesNothing() {

@@ -3,6 +3,7 @@ public final class DraftTest {
   public static void main(String[] args) {
     newGarden();
     addsEachKind();
+    addsAll();
     addsLines();
     addsBrackets();
     addIsRefused();
@@ -118,6 +119,30 @@ public final class DraftTest {
     Check.due("brackets", "[a/b/jig|jig]{a/b/jig|jig}{0|jig}(jig)@a/b/jig", g::draft);
   }
 
+  /** All that can be added, to nothing and to each sign. */
+  private static void addsAll() {
+    String before = Gardens.SIGNS;
+    for (int kind = 0; kind <= 14; kind++) {
+      for (int a = 0; a <= 39; a++) {
+        for (int b = -1; b <= 9; b++) {
+          adds(Gardens.added(kind, a, b), kind, a, b);
+        }
+      }
+      for (int sign = 0; sign <= 30; sign++) {
+        int typed = sign;
+        int k = kind;
+        boolean isLetter = sign <= 9;
+        boolean isLine = kind >= 2 && kind <= 5;
+        String ahead = kind == 0 && isLetter ? " " : isLine && sign != 12 ? "\n" : "";
+        Check.due("kind " + kind + " behind " + before.charAt(sign),
+            before.charAt(sign) + ahead + Gardens.added(kind, 7, 3), g -> g.type(typed), g -> {
+              g.add(k, 7, 3);
+              return g.draft();
+            });
+      }
+    }
+  }
+
   private static void addIsRefused() {
     Pagegarden g = new Pagegarden();
     int[][] wrong = {
@@ -183,9 +208,9 @@ public final class DraftTest {
     Check.due("taken", "ab", g::draft);
     Check.due("take the newest", 7, () -> g.take(0, 1));
     Check.due("taken in its place", "cad egg", g::draft);
-    Gardens.makeLong(g, 0, " ".repeat(149), " ".repeat(149));
+    Gardens.makeLong(g, 0, Gardens.words(149), Gardens.words(149));
     Check.due("take 300", 300, () -> g.take(0, g.ofPage(0, 3)));
-    Gardens.makeLong(g, 0, " ".repeat(150), " ".repeat(149));
+    Gardens.makeLong(g, 0, Gardens.words(150), Gardens.words(149));
     Check.due("its signs", 301, () -> g.ofPage(0, 1));
     Check.noState("take 301", g, () -> g.take(0, g.ofPage(0, 3)));
   }

@@ -60,7 +60,7 @@ public final class FullTest {
   /** A page of so many signs, and a draft. */
   private static void longPage(Pagegarden g, int signs) {
     g.plant(0);
-    Gardens.makeLong(g, 0, "a".repeat(signs - 200), "b".repeat(198));
+    Gardens.makeLong(g, 0, Gardens.words(signs - 200), Gardens.words(198));
     Gardens.draft(g, "jig");
   }
 
@@ -76,20 +76,22 @@ public final class FullTest {
   private static void textOf400() {
     Pagegarden g = new Pagegarden();
     longPage(g, 400);
-    String due = "a".repeat(200) + "\n=" + "b".repeat(198);
+    String ahead = Gardens.words(200);
+    String behind = Gardens.words(198);
+    String due = ahead + "\n=" + behind;
     Check.due("text", due, () -> g.text(0, 2));
     Check.due("signs", 400, () -> g.ofPage(0, 1));
     Check.due("signs of the version", 400, () -> g.versionOf(0, 2, 1));
     Check.due("the page, written", due, () -> g.nodeText(0, 0));
-    Check.due("shown", "a".repeat(200) + "\n1 " + "b".repeat(198) + "\n", () -> g.shown(0));
-    Check.due("contents", "1 " + "b".repeat(198) + "\n", () -> g.contents(0));
-    Check.due("section 1", "=" + "b".repeat(198), () -> g.section(0, 1));
+    Check.due("shown", ahead + "\n1 " + behind + "\n", () -> g.shown(0));
+    Check.due("contents", "1 " + behind + "\n", () -> g.contents(0));
+    Check.due("section 1", "=" + behind, () -> g.section(0, 1));
     Check.due("exported", "%ab 2\n" + due + "\n", g::exported);
     Check.due("sound", true, g::isSound);
     Check.due("reload", 1, g::reload);
     Check.due("text then", due, () -> g.text(0, 0));
     Check.due("a section goes", 1, () -> g.split(0, 1, 1));
-    Check.due("where it went", "=" + "b".repeat(198), () -> g.text(1, 0));
+    Check.due("where it went", "=" + behind, () -> g.text(1, 0));
     Check.due("write less", 2, () -> g.write(0));
     Check.due("restore 400 signs", 3, () -> g.restore(0, 0));
     Check.due("undo that", 4, () -> g.undoEdit(0, 3));
@@ -127,39 +129,40 @@ public final class FullTest {
   }
 
   private static void mostMarks() {
-    Pagegarden g = new Pagegarden();
-    fills(g, "=\n".repeat(99) + "=", "\n=".repeat(99) + "=");
-    Check.due("heads", 200, () -> g.ofPage(0, 8));
-    Check.due("the last path", true, () -> g.contents(0).endsWith("\n199 \n199.1 \n"));
-    Check.due("the last section", "==", () -> g.section(0, 200));
-    Check.noArgument("one more section", g, () -> g.section(0, 201));
-    fills(g, "()".repeat(100), "()".repeat(99));
-    Check.due("the last note", true, () -> g.shown(0).endsWith("\n^198: \n^199: \n"));
-    fills(g, "[a]".repeat(66) + "aa", "[a]".repeat(66));
-    Check.due("links", 132, () -> g.ofPage(0, 5));
-    Check.due("the last link", -1, () -> g.link(0, 131));
-    Check.noArgument("one more link", g, () -> g.link(0, 132));
-    fills(g, "{a}".repeat(66) + "aa", "{a}".repeat(66));
-    Check.due("parts", 132, () -> g.ofPage(0, 6));
+    Pagegarden heads = filled("=\n".repeat(99) + "=", "\n=".repeat(99) + "=");
+    Check.due("heads", 200, () -> heads.ofPage(0, 8));
+    Check.due("the last path", true, () -> heads.contents(0).endsWith("\n199 \n199.1 \n"));
+    Check.due("the last section", "==", () -> heads.section(0, 200));
+    Check.noArgument("one more section", heads, () -> heads.section(0, 201));
+    Pagegarden notes = filled("()".repeat(100), "()".repeat(99));
+    Check.due("the last note", true, () -> notes.shown(0).endsWith("\n^198: \n^199: \n"));
+    Pagegarden links = filled("[a]".repeat(66) + "aa", "[a]".repeat(66));
+    Check.due("links", 132, () -> links.ofPage(0, 5));
+    Check.due("the last link", -1, () -> links.link(0, 131));
+    Check.noArgument("one more link", links, () -> links.link(0, 132));
+    Pagegarden parts = filled("{a}".repeat(66) + "aa", "{a}".repeat(66));
+    Check.due("parts", 132, () -> parts.ofPage(0, 6));
     Check.due("all lead to nobody", "?".repeat(66) + "aa\n1 " + "?".repeat(66) + "\n",
-        () -> g.shown(0));
-    fills(g, "|".repeat(200), "a".repeat(198));
-    Check.due("cells", 200, () -> g.node(0, 1, 2));
-    Check.due("shown", " | ".repeat(199) + "\n1 " + "a".repeat(198) + "\n", () -> g.shown(0));
-    fills(g, "'_".repeat(100), "_'".repeat(99));
-    Check.due("nodes", 401 + 1, () -> g.ofPage(0, 7));
+        () -> parts.shown(0));
+    Pagegarden cells = filled("|".repeat(200), "a".repeat(198));
+    Check.due("cells", 200, () -> cells.node(0, 1, 2));
+    Check.due("shown cells", " | ".repeat(199) + "\n1 " + "a".repeat(198) + "\n",
+        () -> cells.shown(0));
+    Pagegarden styles = filled("'_".repeat(100), "_'".repeat(99));
+    Check.due("nodes", 402, () -> styles.ofPage(0, 7));
     Check.due("styles",
         "<1><3><2><0>".repeat(50) + "\n1 " + "<2><3><1><0>".repeat(49) + "<2><3><0>\n",
-        () -> g.shown(0));
+        () -> styles.shown(0));
   }
 
-  private static void fills(Pagegarden g, String ahead, String behind) {
-    if (g.all(0) == 0) {
-      g.plant(0);
-    }
+  /** A page of 400 signs, in two drafts. */
+  private static Pagegarden filled(String ahead, String behind) {
+    Pagegarden g = new Pagegarden();
+    g.plant(0);
     Gardens.makeLong(g, 0, ahead, behind);
     Check.due("400 signs", 400, () -> g.ofPage(0, 1));
     Check.due("sound", true, g::isSound);
+    return g;
   }
 
   private static void deepestNodes() {
@@ -179,22 +182,38 @@ public final class FullTest {
         past -> past.contents(0));
   }
 
+  /** X and Y over Z, each of 399 lines or so: the first one is X's, the last one Y's. */
   private static void joinsOfManyLines() {
-    Check.Past past = g -> {
-      g.plant(0);
-      Gardens.makeLong(g, 0, "a" + "\n".repeat(199), "\n".repeat(197));
-      Gardens.draft(g, "\n".repeat(199));
-      g.writeSection(0, 0);
-      Gardens.draft(g, "=" + "\n".repeat(197) + "b");
-      g.writeSection(0, 1);
-    };
-    Check.due("the version that is undone", 4, past, g -> g.ofPage(0, 3));
-    Check.due("undo", 5, past, g -> g.undoEdit(0, 3));
-    Check.due("the first line and the last one",
-        "a" + "\n".repeat(199) + "\n=" + "\n".repeat(197) + "b", past, g -> {
-          g.undoEdit(0, 3);
-          return g.text(0, 5);
-        });
+    Pagegarden g = new Pagegarden();
+    String lines = "\n".repeat(198);
+    Gardens.plant(g, 0, "a");
+    Gardens.plant(g, 1, lines);
+    putBehind(g, "");
+    putBehind(g, "");
+    Gardens.write(g, 0, "d");
+    putBehind(g, "");
+    putBehind(g, "");
+    Gardens.write(g, 0, "d");
+    putBehind(g, "");
+    putBehind(g, "c");
+    Check.due("X again", 9, () -> g.restore(0, 2));
+    Check.due("Z again", 10, () -> g.restore(0, 5));
+    Check.due("Y again", 11, () -> g.restore(0, 8));
+    Check.due("its lines", 399, () -> g.ofPage(0, 2));
+    Check.due("undo Z", 12, () -> g.undoEdit(0, 10));
+    Check.due("joined", "a\n" + lines + "\n" + lines + "c", () -> g.text(0, 12));
+    Check.due("its signs", 400, () -> g.ofPage(0, 1));
+  }
+
+  /** What page 1 is, and something more, comes behind page 0. */
+  private static void putBehind(Pagegarden g, String more) {
+    g.take(1, 0);
+    for (char sign : more.toCharArray()) {
+      g.type(Gardens.SIGNS.indexOf(sign));
+    }
+    int page = g.plant(9);
+    g.merge(0, page);
+    g.uproot(page);
   }
 
   /** Pages 0 to 11 with the names 0 to 11. */
@@ -383,11 +402,16 @@ public final class FullTest {
     }, g -> g.talk(0));
   }
 
-  /** A page with so many versions, version k by k % 5, with the text k signs; and a draft. */
+  /** The text of a version: another one than those of the 39 versions next to it. */
+  private static String versionText(int version) {
+    return version == 0 ? "" : "[" + Gardens.name(version % 40) + "]";
+  }
+
+  /** A page with so many versions, version k by k % 5; and a draft. */
   private static void versions(Pagegarden g, int many) {
     for (int i = 0; i < many; i++) {
       g.login(i % 5);
-      Gardens.draft(g, "a".repeat(i));
+      Gardens.draft(g, versionText(i));
       if (i == 0) {
         g.plant(0);
       } else {
@@ -409,9 +433,10 @@ public final class FullTest {
       Pagegarden g = Check.made(past);
       for (int i = oldest; i < many; i++) {
         int version = i;
-        Check.due("text " + i + what, "a".repeat(i), () -> g.text(0, version));
+        String due = versionText(i);
+        Check.due("text " + i + what, due, () -> g.text(0, version));
         Check.due("user " + i + what, i % 5, () -> g.versionOf(0, version, 0));
-        Check.due("signs " + i + what, i, () -> g.versionOf(0, version, 1));
+        Check.due("signs " + i + what, due.length(), () -> g.versionOf(0, version, 1));
       }
       Check.due("sound" + what, true, g::isSound);
       edges(what, past, oldest, many - 1);
@@ -429,7 +454,7 @@ public final class FullTest {
       Check.noArgument("undoEdit" + what, past, g -> g.undoEdit(0, version));
     }
     Check.noArgument("undoEdit the oldest" + what, past, g -> g.undoEdit(0, oldest));
-    Check.due("take the oldest" + what, oldest, past, g -> g.take(0, oldest));
+    Check.due("take the oldest" + what, versionText(oldest).length(), past, g -> g.take(0, oldest));
     Check.due("restore the oldest" + what, oldest < newest ? newest + 1 : newest, past,
         g -> g.restore(0, oldest));
     if (oldest < newest) {
@@ -465,7 +490,7 @@ public final class FullTest {
     String[] same = {"restore the newest", "write the same"};
     for (String what : same) {
       Check.due(what + " makes none", 0, past, g -> {
-        Gardens.draft(g, "a".repeat(19));
+        Gardens.draft(g, versionText(19));
         int version = what.startsWith("restore") ? g.restore(0, 19) : g.write(0);
         return version == 19 ? g.ofPage(0, 4) : -2;
       });
@@ -496,6 +521,18 @@ public final class FullTest {
       Check.due("rights are told", due, () -> g.garden(8));
     }
     Check.due("all pairs", 80, () -> g.garden(8));
+    for (int user = 0; user < 5; user++) {
+      int u = user;
+      for (int prefix = 0; prefix < 4; prefix++) {
+        int p = prefix;
+        Check.due("told for the prefix", (u + p) % 3, () -> g.allow(u, p, (u + p) % 3));
+      }
+      for (int page = 0; page < 12; page++) {
+        int p = page;
+        Check.due("told for the page", (u + p) % 3, () -> g.allowPage(u, p, (u + p) % 3));
+        Check.due("the right", (u + p) % 3, () -> g.right(u, p));
+      }
+    }
     g.allow(4, 3, 0);
     g.allowPage(4, 11, 1);
     Check.due("told again they are the same", 80, () -> g.garden(8));

@@ -352,6 +352,7 @@ public final class LinksTest {
   }
 
   private static void finds() {
+    findsEdges();
     Pagegarden g = new Pagegarden();
     Gardens.plant(g, 0, "abba (ab)");
     Gardens.plant(g, 1, "abba a b");
@@ -362,24 +363,22 @@ public final class LinksTest {
       int word = i;
       Check.due("find(" + i + ")", due[i], () -> g.find(word));
     }
-    // The first word of all, the last one of as many as can be, and none that stood elsewhere.
+    Check.noArgument("find(10)", g, () -> g.find(10));
+    Check.noArgument("find(-1)", g, () -> g.find(-1));
+  }
+
+  /** The first word of all, the last one of as many as can be, and none that stood elsewhere. */
+  private static void findsEdges() {
     Check.due("the only word", 1, past -> Gardens.plant(past, 0, "cad"), past -> past.find(2));
     Check.due("the 200th word", 1, past -> {
-      Gardens.plant(past, 0, "=a" + " a".repeat(98) + " b");
-      Gardens.draft(past, "a " + "a ".repeat(98) + "a");
-      past.writeSection(0, 0);
-      Check.due("words", 200, () -> past.ofPage(0, 9));
-      Gardens.write(past, 0, Gardens.text(past, 0).substring(0, 200) + "a".repeat(99));
-      Gardens.plant(past, 1, "a ".repeat(99) + "a");
-      Gardens.plant(past, 2, "a ".repeat(98) + "a ab");
-      past.merge(1, 2);
-    }, past -> past.find(0) >> 1);
+      Gardens.plant(past, 0, "a ".repeat(99) + "a");
+      Gardens.plant(past, 1, "a ".repeat(98) + "a ab");
+      past.merge(0, 1);
+    }, past -> past.ofPage(0, 9) == 200 ? past.find(0) & 1 : -1);
     Check.due("a word's place is not a word", 1, past -> {
       Gardens.plant(past, 0, "c ab");
       Gardens.plant(past, 1, "cdab");
     }, past -> past.find(0));
-    Check.noArgument("find(10)", g, () -> g.find(10));
-    Check.noArgument("find(-1)", g, () -> g.find(-1));
   }
 
   private static void findsKinds() {

@@ -108,10 +108,10 @@ public final class PagesTest {
   private static void writesOverTooMuch() {
     Pagegarden g = new Pagegarden();
     Gardens.plant(g, 0, "ab\nba\ncad");
-    Gardens.write(g, 0, "ab\nba\n" + "a".repeat(199));
-    Gardens.draft(g, "b".repeat(198) + "\nba\ncad");
+    Gardens.write(g, 0, "ab\nba\n" + Gardens.words(199));
+    Gardens.draft(g, Gardens.words(198) + "\nba\ncad");
     Check.refused("401 signs", g, () -> g.writeOver(0, 0));
-    Gardens.draft(g, "b".repeat(197) + "\nba\ncad");
+    Gardens.draft(g, Gardens.words(197) + "\nba\ncad");
     Check.due("400 signs", 2, () -> g.writeOver(0, 0));
     Check.due("its signs", 400, () -> g.ofPage(0, 1));
   }
@@ -351,10 +351,10 @@ public final class PagesTest {
     Check.refused("no right at the other one", g, () -> g.merge(0, 1));
     Check.refused("no right at the one", g, () -> g.merge(1, 0));
     g.allowPage(4, 1, 2);
-    Gardens.write(g, 0, "a".repeat(200));
-    Gardens.write(g, 1, "b".repeat(200));
+    Gardens.write(g, 0, Gardens.words(200));
+    Gardens.write(g, 1, Gardens.words(200));
     Check.refused("401 signs", g, () -> g.merge(0, 1));
-    Gardens.write(g, 1, "b".repeat(199));
+    Gardens.write(g, 1, Gardens.words(199));
     Check.due("400 signs", 4, () -> g.merge(0, 1));
     Check.due("its signs", 400, () -> g.ofPage(0, 1));
   }
@@ -422,12 +422,12 @@ public final class PagesTest {
 
   private static void undoesToo() {
     Pagegarden g = new Pagegarden();
-    Gardens.plant(g, 0, "a".repeat(250) + "\nba\ncad");
+    Gardens.plant(g, 0, Gardens.words(250) + "\nba\ncad");
     Gardens.write(g, 0, "a\nba\ncad");
-    Gardens.write(g, 0, "a\nba\n" + "b".repeat(146));
+    Gardens.write(g, 0, "a\nba\n" + Gardens.words(146));
     Check.due("400 signs", 3, () -> g.undoEdit(0, 1));
     Check.due("its signs", 400, () -> g.ofPage(0, 1));
-    Gardens.write(g, 0, "a\nba\n" + "b".repeat(147));
+    Gardens.write(g, 0, "a\nba\n" + Gardens.words(147));
     Check.refused("401 signs", g, () -> g.undoEdit(0, 1));
   }
 

@@ -73,7 +73,7 @@ public final class RandomRunsTest {
 
     int go() throws Exception {
       int calls = 0;
-      while (calls < 512) {
+      while (calls < 510) {
         int dice = random.nextInt(100);
         if (dice < drafting) {
           draftSome();
@@ -123,7 +123,7 @@ public final class RandomRunsTest {
       int[] there = new int[12];
       int many = 0;
       for (int i = 0; i < 12; i++) {
-        if ((garden.all(0) >> i & 1) != 0) {
+        if ((oracle.all(0) >> i & 1) != 0) {
           there[many++] = i;
         }
       }
@@ -134,10 +134,10 @@ public final class RandomRunsTest {
     }
 
     private int version(int page) {
-      if (page < 0 || page > 11 || (garden.all(0) >> page & 1) == 0 || random.nextInt(20) == 0) {
+      if (page < 0 || page > 11 || (oracle.all(0) >> page & 1) == 0 || random.nextInt(20) == 0) {
         return random.nextInt(5) - 1;
       }
-      int newest = garden.ofPage(page, 3);
+      int newest = oracle.ofPage(page, 3);
       return random.nextInt(3) == 0 ? newest - random.nextInt(22)
           : newest - random.nextInt(3);
     }

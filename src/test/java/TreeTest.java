@@ -59,6 +59,20 @@ public final class TreeTest {
     reads("ab=", "0(8(10<ab=>))");
     reads("@", "0(8(10<@>))");
     reads("=@ab", "0(1(2(10<@ab>)))");
+    reads("=== =", "0(1(2(10< =>)))");
+    reads("==*", "0(1(2(10<*>)))");
+    reads("***=", "0(3(10<=>))");
+    reads("*=*", "0(3(10<=*>))");
+    reads("=====", "0(8(10<=====>))");
+    reads("*****", "0(8(10<*****>))");
+    reads("|=a", "0(5(9(10<=a>)))");
+    reads(">=a", "0(4(10<=a>))");
+    // What is begun in one line does not end in another one.
+    reads("[ab\n]", "0(8(10<[ab>) 8(10<]>))");
+    reads("{0\n}", "0(8(10<{0>) 8(10<}>))");
+    reads("{ab|\n}", "0(8(10<{ab|>) 8(10<}>))");
+    reads("(\n)", "0(8(10<(>) 8(10<)>))");
+    reads("#\nab", "0(8(10<#>) 8(10<ab>))");
   }
 
   private static void readsSections() {
@@ -300,43 +314,38 @@ public final class TreeTest {
 
   /** The texts that have the most lines, nodes and words. */
   private static void fullRows() {
-    Pagegarden g = new Pagegarden();
-    full(g, "\n".repeat(200), "\n".repeat(198), 402);
-    Check.due("lines", 400, () -> g.ofPage(0, 2));
-    Gardens.write(g, 0, "\n".repeat(200));
-    Gardens.plant(g, 1, "\n".repeat(199));
-    g.merge(0, 1);
-    Check.due("lines", 401, () -> g.ofPage(0, 2));
-    Check.due("nodes", 402, () -> g.ofPage(0, 7));
-    Check.due("sound", true, g::isSound);
-    full(g, "=\n".repeat(99) + "='", "'".repeat(198), 402);
-    full(g, "'".repeat(200), "'".repeat(198), 402);
+    Pagegarden lines = full("\n".repeat(200), "\n".repeat(198), 402);
+    Check.due("lines", 400, () -> lines.ofPage(0, 2));
+    full("=\n".repeat(99) + "='", "'".repeat(198), 402);
+    full("'".repeat(200), "'".repeat(198), 402);
+    full("|".repeat(200), "'".repeat(198), 402);
     // The last node of all is a head.
-    full(g, "\n".repeat(200), "\n".repeat(197) + "=", 402);
-    Check.due("the last node", 2, () -> g.node(0, 401, 0));
-    Check.due("its path", "1 \n2 \n", () -> g.contents(0));
-    Check.due("heads", 2, () -> g.ofPage(0, 8));
-    Check.due("its section", "=", () -> g.section(0, 2));
-    Check.due("shown", "\n".repeat(201) + "1 \n" + "\n".repeat(196) + "2 \n", () -> g.shown(0));
-    full(g, "|".repeat(200), "'".repeat(198), 402);
-    full(g, "a ".repeat(100), " a".repeat(99), 6);
-    Check.due("words", 199, () -> g.ofPage(0, 9));
-    Gardens.write(g, 0, "=a" + " a".repeat(99));
-    Gardens.draft(g, "a " + "a ".repeat(98) + "a");
-    g.writeSection(0, 0);
-    Check.due("200 words", 200, () -> g.ofPage(0, 9));
-    Check.due("sound", true, g::isSound);
+    Pagegarden head = full("\n".repeat(200), "\n".repeat(197) + "=", 402);
+    Check.due("the last node", 2, () -> head.node(0, 401, 0));
+    Check.due("its path", "1 \n2 \n", () -> head.contents(0));
+    Check.due("heads", 2, () -> head.ofPage(0, 8));
+    Check.due("its section", "=", () -> head.section(0, 2));
+    Check.due("shown", "\n".repeat(201) + "1 \n" + "\n".repeat(196) + "2 \n",
+        () -> head.shown(0));
+    Pagegarden words = full("a ".repeat(100), " a".repeat(99), 6);
+    Check.due("words", 199, () -> words.ofPage(0, 9));
+    Pagegarden most = new Pagegarden();
+    Gardens.plant(most, 0, "=a" + " a".repeat(99));
+    Gardens.draft(most, "a ".repeat(99) + "a");
+    most.writeSection(0, 0);
+    Check.due("200 words", 200, () -> most.ofPage(0, 9));
+    Check.due("sound", true, most::isSound);
   }
 
-  private static void full(Pagegarden g, String ahead, String behind, int nodes) {
-    if (g.all(0) == 0) {
-      g.plant(0);
-    }
+  private static Pagegarden full(String ahead, String behind, int nodes) {
+    Pagegarden g = new Pagegarden();
+    g.plant(0);
     Gardens.makeLong(g, 0, ahead, behind);
     Check.due("400 signs", 400, () -> g.ofPage(0, 1));
     Check.due("nodes", nodes, () -> g.ofPage(0, 7));
     Check.due("all of it is in the page", 400, () -> g.node(0, 0, 3));
     Check.due("sound", true, g::isSound);
+    return g;
   }
 
   private static void wrongInputs() {

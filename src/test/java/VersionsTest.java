@@ -95,7 +95,7 @@ public final class VersionsTest {
     Pagegarden g = new Pagegarden();
     g.plant(0);
     for (int i = 1; i <= 19; i++) {
-      Gardens.write(g, 0, "a".repeat(i));
+      Gardens.write(g, 0, "[" + Gardens.name(i) + "]");
     }
     Check.due("twenty are kept", 0, () -> g.ofPage(0, 4));
     Check.due("versions", 20, () -> g.garden(7));
@@ -109,13 +109,13 @@ public final class VersionsTest {
     Check.noArgument("it can't be taken", g, () -> g.take(0, 0));
     Check.noArgument("it can't be restored", g, () -> g.restore(0, 0));
     Check.noArgument("nothing is written over it", g, () -> g.writeOver(0, 0));
-    Check.due("the second one", "a", () -> g.text(0, 1));
+    Check.due("the second one", "[ba]", () -> g.text(0, 1));
     for (int i = 1; i <= 25; i++) {
-      Gardens.write(g, 0, "b".repeat(i + 1));
+      Gardens.write(g, 0, "{" + Gardens.name(i) + "}");
     }
     for (int i = 26; i <= 45; i++) {
       int version = i;
-      Check.due("version " + i, "b".repeat(i - 19), () -> g.text(0, version));
+      Check.due("version " + i, "{" + Gardens.name(i - 20) + "}", () -> g.text(0, version));
     }
     Gardens.plant(g, 1, "");
     Check.due("versions of both", 21, () -> g.garden(7));

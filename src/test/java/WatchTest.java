@@ -60,7 +60,7 @@ public final class WatchTest {
     Gardens.plant(g, 0, "");
     g.watch(0, 0, true);
     for (int i = 1; i <= 30; i++) {
-      Gardens.write(g, 0, "a".repeat(i));
+      Gardens.write(g, 0, Gardens.name(i));
     }
     Check.due("those that are kept no more, too", 30, () -> g.unseen(0));
     Check.due("see all", 30, () -> g.see(0, 0));
