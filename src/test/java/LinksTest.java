@@ -145,6 +145,7 @@ public final class LinksTest {
     Gardens.write(g, 2, "");
     // "a/b/ba" is less than "a/ba" and "ab".
     Check.due("by names", "ab>a/ba>a/b/ba>gab>a/b/ab", () -> g.walk(0, 7));
+    walksByTheLeastNames();
     Pagegarden line = new Pagegarden();
     for (int i = 0; i < 12; i++) {
       Gardens.plant(line, i, "[" + Gardens.name(i + 1) + "]");
@@ -154,6 +155,20 @@ public final class LinksTest {
     Check.noIndex("walk from no page", g, () -> g.walk(8, 0));
     Check.noIndex("walk to no page", g, () -> g.walk(0, 8));
     Check.noIndex("walk from page -1", g, () -> g.walk(-1, -1));
+  }
+
+  /** The names of the pages themselves, not those by which one came to them. */
+  private static void walksByTheLeastNames() {
+    Pagegarden g = new Pagegarden();
+    Gardens.plant(g, 0, "[b/ab][a/ab]");
+    Gardens.plant(g, 1, "[deaf]");
+    Gardens.plant(g, 20, "[deaf]");
+    Gardens.plant(g, 10, "@ba");
+    Gardens.plant(g, 3, "");
+    Check.due("by the redirect's name it would be another one", "ab>b/ab>deaf",
+        () -> g.walk(0, 4));
+    g.rename(1, 39);
+    Check.due("renamed it is the least", "ab>a/b/jig>deaf", () -> g.walk(0, 4));
   }
 
   private static void rank(Pagegarden g, int page, String... due) {
@@ -394,6 +409,11 @@ public final class LinksTest {
     Check.due("the same twice", 3, () -> g.kinds(0, 0, 0));
     Check.due("not the same", 0, () -> g.kinds(0, 0, 2));
     Check.due("none", 0, () -> g.kinds(8, 9, 1));
+    String[] none = {" ab", ">ab", "@ab", "=ab", "*ab", "cab", "|ab", "(ab)", "_ab"};
+    for (String text : none) {
+      Check.due("no kind is in " + text, 0, past -> Gardens.plant(past, 0, text),
+          past -> past.kinds(0, 0, 1));
+    }
     Check.due("none that stood there before", 0, past -> {
       Gardens.plant(past, 0, "a#ab");
       Gardens.write(past, 0, "a ab");

@@ -12,6 +12,7 @@ public final class RefusedTest {
     renamesUpTo400();
     quarrels();
     renamesToWhatIsNamed();
+    renamesWithoutPagesThatWent();
     splitsWithoutLines();
     seesWithoutWatching();
     isNotRefused();
@@ -304,6 +305,22 @@ public final class RefusedTest {
         Gardens.plant(g, 1, text);
       }, g -> g.rename(0, 2));
     }
+  }
+
+  /** Nothing of a page that went is in the way: neither what it named, nor how long it was. */
+  private static void renamesWithoutPagesThatWent() {
+    Check.due("rename to what only a page named that went", 0, g -> {
+      Gardens.plant(g, 0, "");
+      Gardens.plant(g, 1, "[cad]{cad}");
+      g.uproot(1);
+    }, g -> g.rename(0, 2));
+    Check.due("rename of what only a long page named that went", 1, g -> {
+      Gardens.plant(g, 0, "[ab]");
+      g.plant(1);
+      Gardens.makeLong(g, 1, Gardens.words(200), Gardens.words(194) + "[ab]");
+      Check.due("it is refused while it is there", -9, () -> g.rename(0, 2));
+      g.uproot(1);
+    }, g -> g.rename(0, 2));
   }
 
   private static void splitsWithoutLines() {

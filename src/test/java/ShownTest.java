@@ -15,6 +15,7 @@ public final class ShownTest {
     showsArgumentsInTheDeepestPart();
     keepsFour();
     keepsTillTextsChange();
+    keepsWhatWasNotPutIn();
     keepsTillNamesLeadElsewhere();
     keepsTillRedirectsLeadElsewhere();
     keepsTillAnyNameLeadsElsewhere();
@@ -252,6 +253,51 @@ public final class ShownTest {
     kept(g, 8 + 4);
   }
 
+  /** What only would have been put in may become another text. */
+  private static void keepsWhatWasNotPutIn() {
+    String[] texts = {
+      "{ba}".repeat(12) + "{cad}", "[cad]", "{deaf}", "`{cad}`", "{0|cad}", "{jig}", "(cad)"
+    };
+    for (String text : texts) {
+      Check.due("another text of what is not put in by " + text, 1, g -> {
+        Gardens.plant(g, 0, text);
+        Gardens.plant(g, 1, "");
+        Gardens.plant(g, 2, "a");
+        // A part in a part in a part.
+        Gardens.plant(g, 3, "{egg}");
+        Gardens.plant(g, 4, "{fig}");
+        Gardens.plant(g, 5, "{cad}");
+        g.shown(0);
+      }, g -> {
+        Gardens.write(g, 2, "b");
+        return g.all(5);
+      });
+    }
+    for (String text : new String[] {"{cad}", "{fig}", "{egg}", "a{ice}{ba}", "{hid}"}) {
+      Check.due("another text of what is put in by " + text, 0, g -> {
+        Gardens.plant(g, 0, text);
+        Gardens.plant(g, 1, "{cad}");
+        Gardens.plant(g, 2, "");
+        Gardens.plant(g, 4, "{fig}");
+        Gardens.plant(g, 5, "{cad}");
+        Gardens.plant(g, 7, "@cad");
+        g.shown(0);
+      }, g -> {
+        Gardens.write(g, 2, "b");
+        return g.all(5);
+      });
+    }
+    Check.due("a redirect that leads there still may become another text", 1, g -> {
+      Gardens.plant(g, 0, "{ba}[ba]");
+      Gardens.plant(g, 1, "@cad");
+      Gardens.plant(g, 2, "a");
+      g.shown(0);
+    }, g -> {
+      Gardens.write(g, 1, "@cad\nb");
+      return g.all(5);
+    });
+  }
+
   private static void keepsTillNamesLeadElsewhere() {
     Pagegarden g = new Pagegarden();
     Gardens.plant(g, 0, "[ba]");
@@ -344,12 +390,13 @@ public final class ShownTest {
   private static void keepsTillAnyRedirectLeadsElsewhere() {
     for (int on = 0; on < 12; on++) {
       int number = on;
+      // Page k has the name 3 * k + 4: no number of a page is that of its name.
       Check.Past past = g -> {
         for (int i = 0; i < 12; i++) {
           boolean isOn = i == number;
-          Gardens.plant(g, i, isOn ? "@" + Gardens.name((number + 1) % 12) : "");
+          Gardens.plant(g, 3 * i + 4, isOn ? "@" + nameOf((number + 1) % 12) : "");
         }
-        Gardens.write(g, (number + 2) % 12, "[" + Gardens.name(number) + "]");
+        Gardens.write(g, (number + 2) % 12, "[" + nameOf(number) + "]");
         g.shown((number + 2) % 12);
         g.shown((number + 3) % 12);
       };
@@ -357,14 +404,18 @@ public final class ShownTest {
       int other = 1 << (number + 3) % 12;
       Check.due("both are kept", reader + other, past, g -> g.all(5));
       Check.due("the end of redirect " + on + " is renamed", other, past, g -> {
-        g.rename((number + 1) % 12, 39);
+        g.rename((number + 1) % 12, 0);
         return g.all(5);
       });
       Check.due("a page that was not asked is renamed", reader + other, past, g -> {
-        g.rename((number + 4) % 12, 39);
+        g.rename((number + 4) % 12, 0);
         return g.all(5);
       });
     }
+  }
+
+  private static String nameOf(int page) {
+    return Gardens.name(3 * page + 4);
   }
 
   /** All four are kept no more, or just those that asked, whichever they are. */

@@ -15,6 +15,10 @@ public final class SoundTest {
         (g, page) -> Array.setInt(get(get(page, "tree"), "starts"), 0, 1));
     breaks("the page's end", false,
         (g, page) -> Array.setInt(get(get(page, "tree"), "ends"), 0, 1));
+    breaks("a node's end, of a page that is not kept", false, (g, page) ->
+        Array.setInt(get(get(Array.get(get(g, "pages"), 1), "tree"), "ends"), 2, 3));
+    breaks("a node's begin, of a page that is not kept", false, (g, page) ->
+        Array.setInt(get(get(Array.get(get(g, "pages"), 1), "tree"), "starts"), 2, 1));
     breaks("a level", false, (g, page) -> Array.setInt(get(get(page, "tree"), "mark"), 2, 2));
     breaks("the text", false, (g, page) -> set(page, "whole", "=ab[ba]\n*[ba]"));
     breaks("the newest version", false,
@@ -26,6 +30,10 @@ public final class SoundTest {
         (g, page) -> set(Array.get(get(get(g, "shelf"), "rows"), 0), "answer", "ab"));
     breaks("the first sign of what is kept", false, (g, page) ->
         set(Array.get(get(get(g, "shelf"), "rows"), 0), "answer", "2 abba\n- ba\n"));
+    breaks("the end of what is kept", false, (g, page) ->
+        set(Array.get(get(get(g, "shelf"), "rows"), 0), "answer", "1 abba\n"));
+    breaks("what is kept, and more", false, (g, page) ->
+        set(Array.get(get(get(g, "shelf"), "rows"), 0), "answer", "1 abba\n- ba\n\n"));
     breaks("what is kept, but nothing of it", true, (g, page) ->
         set(Array.get(get(get(g, "shelf"), "rows"), 0), "answer", "1 abba\n- ba\n"));
     breaks("who is at the first page", false,

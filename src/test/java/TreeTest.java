@@ -2,6 +2,7 @@
 public final class TreeTest {
   public static void main(String[] args) {
     tellsTexts();
+    readsAllShortTexts();
     readsLines();
     readsSections();
     readsItems();
@@ -41,6 +42,47 @@ public final class TreeTest {
     Check.noArgument("version -1", g, () -> g.text(0, -1));
     Check.noIndex("text of no page", g, () -> g.text(1, 0));
     Check.noIndex("text of page -1", g, () -> g.text(-1, 99));
+  }
+
+  /** All texts of three signs, and of less: nodes and what is shown. */
+  private static void readsAllShortTexts() {
+    Pagegarden garden = null;
+    int left = 0;
+    for (int i = 0; i < 32 * 32 * 32; i++) {
+      String text = sign(i) + sign(i / 32) + sign(i / 1024);
+      boolean isTwice = sign(i).isEmpty() && !(sign(i / 32) + sign(i / 1024)).isEmpty()
+          || sign(i / 32).isEmpty() && !sign(i / 1024).isEmpty();
+      if (isTwice) {
+        continue;
+      }
+      if (left == 0) {
+        garden = new Pagegarden();
+        garden.plant(0);
+        left = 20;
+      }
+      left--;
+      Gardens.write(garden, 0, text);
+      Oracle oracle = new Oracle();
+      for (char sign : text.toCharArray()) {
+        oracle.type(Gardens.SIGNS.indexOf(sign));
+      }
+      oracle.plant(0);
+      Pagegarden g = garden;
+      Check.due("nodes of " + text, oracle.ofPage(0, 7), () -> g.ofPage(0, 7));
+      for (int nth = 1; nth < oracle.ofPage(0, 7); nth++) {
+        int node = nth;
+        String due = oracle.node(0, nth, 0) + oracle.nodeText(0, nth);
+        Check.due("node " + nth + " of " + text, due,
+            () -> g.node(0, node, 0) + g.nodeText(0, node));
+      }
+      Check.due(text + ", shown", oracle.shown(0), () -> g.shown(0));
+    }
+  }
+
+  /** One of the signs, or nothing. */
+  private static String sign(int number) {
+    int nth = number % 32;
+    return nth == 31 ? "" : Gardens.SIGNS.substring(nth, nth + 1);
   }
 
   private static void readsLines() {
@@ -161,6 +203,10 @@ public final class TreeTest {
     reads("[ab|]", "0(8(14<[ab|]>))");
     reads("[ab|b a'|0]", "0(8(14<[ab|b a'|0]>))");
     reads("[]", "0(8(10<[]>))");
+    reads("[0]", "0(8(10<[0]>))");
+    reads("[1|a]", "0(8(10<[1|a]>))");
+    reads("{ }", "0(8(10<{ }>))");
+    reads("{*|a}", "0(8(10<{*|a}>))");
     reads("[|ab]", "0(8(10<[|ab]>))");
     reads("[ab ]", "0(8(10<[ab ]>))");
     reads("[ab", "0(8(10<[ab>))");
