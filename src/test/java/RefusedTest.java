@@ -37,7 +37,7 @@ public final class RefusedTest {
   private static void addsUpTo300(int kind, int b) {
     int k = kind;
     int word = b;
-    int signs = (int) Check.made(g -> { }).add(k, 38, word);
+    int signs = Check.made(g -> { }).add(k, 38, word);
     String what = "add(" + k + ", 38, " + word + ")";
     String ends = "\n".repeat(300);
     is(what + " up to 300", 300, g -> Gardens.draft(g, ends.substring(signs)),
