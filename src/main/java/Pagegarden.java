@@ -645,13 +645,17 @@ public final class Pagegarden {
   }
 
   public String shown(int page) throws IndexOutOfBoundsException {
-    there(page);
+    Page found = there(page);
     if (shelf.fetch(page)) {
       shownKept++;
     } else {
       shownAnew++;
       viewer.make(page);
-      shelf.keep(page, viewer);
+      // What is shown can be long: the same text does not take room again.
+      if (!Names.isSame(viewer.out, found.lastShown)) {
+        found.lastShown = viewer.out.toString();
+      }
+      shelf.keep(page, viewer, found.lastShown);
     }
     return shelf.answerAt(shelf.count - 1);
   }
@@ -1879,6 +1883,7 @@ public final class Pagegarden {
     boolean isThere;
     int name;
     String whole = "";
+    String lastShown = "";
     int newest;
     int wordCount;
     int remarkCount;
@@ -2607,7 +2612,7 @@ public final class Pagegarden {
       return place != NONE;
     }
 
-    void keep(int page, Viewer viewer) {
+    void keep(int page, Viewer viewer, String answer) {
       if (count >= MOST_KEPT) {
         drop(0);
       }
@@ -2615,7 +2620,7 @@ public final class Pagegarden {
         Kept row = rows[count];
         row.page = page;
         row.inside = viewer.inside;
-        row.answer = viewer.out.toString();
+        row.answer = answer;
         System.arraycopy(viewer.asked, 0, row.asked, 0, NAMES);
         count++;
       }

@@ -188,11 +188,11 @@ public final class DescriptionTest {
     Walk.says("Each has a NAME, which no other one has, and a TEXT of at most 400 SIGNS.");
     Walk.throwing("IllegalStateException", Walk.pages("", ""), g -> g.plant(1),
         g -> g.rename(0, 1), g -> g.split(0, 0, 1));
-    Check.Past both = Walk.pages("b".repeat(200), "=" + "a".repeat(198));
+    Check.Past both = Walk.pages(Gardens.words(200), Gardens.words(199));
     Walk.is(400, Walk.then(both, g -> g.merge(0, 1)), g -> g.ofPage(0, 1));
     Walk.refused(g -> {
       both.of(g);
-      Gardens.write(g, 1, "a".repeat(200));
+      Gardens.write(g, 1, Gardens.words(200));
     }, g -> g.merge(0, 1));
   }
 

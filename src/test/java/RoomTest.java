@@ -15,11 +15,19 @@ public final class RoomTest {
 
   public static void main(String[] args) {
     makesFewRows();
-    Check.Past full = RoomTest::fill;
-    String[] number = {"add", "rub", "take", "right", "ofPage", "node", "writer", "versionOf",
+    answersNumbers();
+    answersTexts();
+    shows();
+    changes();
+    Check.end("RoomTest");
+  }
+
+  /** A number takes no room. */
+  private static void answersNumbers() {
+    String[] names = {"add", "rub", "take", "right", "ofPage", "node", "writer", "versionOf",
         "link", "sets", "byName", "near", "byPrefix", "find", "kinds", "all", "watch", "see",
         "unseen", "garden", "knock", "isSound", "digest"};
-    Check.Asked[] numbers = {
+    Check.Asked[] calls = {
       g -> g.add(0, 0, -1) + g.rub(300), g -> g.rub(1), g -> g.take(1, 0), g -> g.right(1, 11),
       g -> g.ofPage(11, 11), g -> g.node(0, 1, 3), g -> g.writer(0, 1), g -> g.versionOf(0, 0, 2),
       g -> g.link(11, 0), g -> g.sets(11, 2), g -> g.byName(11), g -> g.near(11, true),
@@ -27,30 +35,57 @@ public final class RoomTest {
       g -> g.watch(1, 2, true), g -> g.see(2, 0), g -> g.unseen(1), g -> g.garden(8),
       g -> g.knock(), g -> g.isSound(), g -> g.digest()
     };
-    for (int i = 0; i < numbers.length; i++) {
-      makes(number[i], 0, full, numbers[i]);
+    for (int i = 0; i < calls.length; i++) {
+      makes(names[i], 0, RoomTest::fill, calls[i]);
     }
-    String[] text = {"draft", "text", "nodeText", "contents", "section", "walk", "rank", "remark",
-        "exported", "shown, kept", "shown, made anew"};
-    Check.Asked[] texts = {
-      g -> g.draft(), g -> g.text(0, 0), g -> g.nodeText(0, 0), g -> g.contents(0),
-      g -> g.section(0, 0), g -> g.walk(0, 11), g -> g.rank(11, 4), g -> g.remark(0, 0),
-      g -> g.exported(), g -> g.shown(0), RoomTest::showsFive
-    };
-    for (int i = 0; i < texts.length; i++) {
-      Check.Asked asked = texts[i];
-      long answer = Check.made(full).exported().length();
-      makes(text[i], i < 8 ? 400 : answer, full, asked);
-    }
-    // A text that stays, and what the draft tells.
-    makes("write", 1000, full, g -> g.take(1 + g.knock() % 2, 0) + g.write(0));
-    makes("restore", 100, Walk.then(full, g -> g.write(0)), g -> g.restore(0, g.ofPage(0, 3) - 1));
-    makes("talk", 1000, full, g -> g.ofPage(0, 15) < 6 ? g.talk(0) : 0);
-    makes("reload", 12 * 100, full, g -> g.reload());
-    Check.end("RoomTest");
   }
 
-  /** Twelve pages of some 300 signs that name each other. */
+  private static void answersTexts() {
+    String[] names = {"draft", "text", "nodeText", "contents", "section", "walk", "rank",
+        "remark"};
+    Check.Asked[] calls = {
+      g -> g.draft(), g -> g.text(0, 0), g -> g.nodeText(0, 0), g -> g.contents(0),
+      g -> g.section(0, 0), g -> g.walk(0, 11), g -> g.rank(11, 4), g -> g.remark(0, 0)
+    };
+    for (int i = 0; i < calls.length; i++) {
+      makes(names[i], 400, RoomTest::fill, calls[i]);
+    }
+    makes("exported", Check.made(RoomTest::fill).exported().length(), RoomTest::fill,
+        g -> g.exported());
+  }
+
+  /** What is shown takes room as it becomes another text. */
+  private static void shows() {
+    makes("shown, kept", 0, g -> {
+      fill(g);
+      g.shown(0);
+    }, g -> g.shown(0));
+    makes("shown, made anew, the same as before", 0, g -> {
+      fill(g);
+      for (int page = 0; page < 5; page++) {
+        g.shown(page);
+      }
+    }, g -> g.shown(g.garden(4) % 5));
+    makes("shown, another one", 1000, RoomTest::fillTwice, g -> {
+      g.restore(0, g.ofPage(0, 3) - 1);
+      return g.shown(0);
+    });
+  }
+
+  /** A text that stays, and what the draft tells. */
+  private static void changes() {
+    makes("write", 800, RoomTest::fill, g -> g.take(1 + g.knock() % 2, 0) + g.write(0));
+    makes("restore", 100, RoomTest::fillTwice, g -> g.restore(0, g.ofPage(0, 3) - 1));
+    makes("talk", 400, RoomTest::fill, g -> g.ofPage(0, 15) < 6 ? g.talk(0) : 0);
+    makes("reload", 12 * 100, RoomTest::fill, g -> g.reload());
+  }
+
+  private static void fillTwice(Pagegarden g) {
+    fill(g);
+    g.write(0);
+  }
+
+  /** Twelve pages of some 100 signs that name each other; one has a remark, and is watched. */
   private static void fill(Pagegarden g) {
     for (int i = 0; i < 12; i++) {
       g.add(9, (i + 1) % 12, 1);
@@ -64,11 +99,6 @@ public final class RoomTest {
     g.watch(2, 0, true);
     g.add(0, 3, -1);
     g.talk(0);
-  }
-
-  /** With four kept, the fifth one is made anew. */
-  private static Object showsFive(Pagegarden g) {
-    return g.shown(g.garden(4) % 5);
   }
 
   private static long bytesOf(Check.Past calls, Pagegarden g) {
